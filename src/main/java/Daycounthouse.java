@@ -752,6 +752,8 @@ public final class Daycounthouse {
     final int[] months = new int[MOST_FEASTS];
     /** The day of the month, or the days behind EASTER. */
     final int[] days = new int[MOST_FEASTS];
+    /** The DAYS of the FEASTS in the year that is looked at. */
+    final int[] yearly = new int[MOST_FEASTS];
 
     void copyFrom(Calendar other) {
       count = other.count;
@@ -803,12 +805,11 @@ public final class Daycounthouse {
     static int monthOf(int day) {
       int year = yearOf(day);
       int inYear = day - firstOf(year);
-      for (int month = 12; month > 1; month--) {
-        if (inYear >= aheadOf(year, month)) {
-          return month;
-        }
+      int month = 12;
+      while (month > 1 && inYear < aheadOf(year, month)) {
+        month--;
       }
-      return 1;
+      return month;
     }
 
     static int dayInMonth(int day) {
@@ -827,7 +828,7 @@ public final class Daycounthouse {
     static int laterBy(int day, int months, boolean isKept) {
       int year = yearOf(day);
       int month = monthOf(day);
-      int inMonth = dayInMonth(day);
+      int inMonth = day - firstOf(year) - aheadOf(year, month) + 1;
       int target = (year - 2000) * 12 + month - 1 + months;
       if (target < 0 || target >= 1200) {
         return NONE;
@@ -872,7 +873,8 @@ public final class Daycounthouse {
       for (int year = yearOf(a); year <= lastYear; year++) {
         for (int i = 0; i < count; i++) {
           int day = feastDay(year, i);
-          if (day >= a && day < b && !isWeekend(day) && isFirstOn(day, year, i)) {
+          yearly[i] = day;
+          if (day >= a && day < b && !isWeekend(day) && isFirst(i)) {
             open--;
           }
         }
@@ -881,9 +883,9 @@ public final class Daycounthouse {
     }
 
     /** Two FEASTS on one day take away just one BANK DAY. */
-    boolean isFirstOn(int day, int year, int i) {
+    boolean isFirst(int i) {
       for (int j = 0; j < i; j++) {
-        if (feastDay(year, j) == day) {
+        if (yearly[j] == yearly[i]) {
           return false;
         }
       }

@@ -27,16 +27,23 @@ final class Check {
     }
   }
 
-  static void argument(String what, Call call) {
-    due(what, answer(call), IllegalArgumentException.class);
+  /** A call that throws must also leave the house as it was. */
+  private static void throwing(Daycounthouse x, Class<?> type, String what, Call call) {
+    long before = x.digest();
+    due(what, answer(call), type);
+    due(what + " leaves all as it was", x.digest(), before);
   }
 
-  static void state(String what, Call call) {
-    due(what, answer(call), IllegalStateException.class);
+  static void argument(Daycounthouse x, String what, Call call) {
+    throwing(x, IllegalArgumentException.class, what, call);
   }
 
-  static void index(String what, Call call) {
-    due(what, answer(call), IndexOutOfBoundsException.class);
+  static void state(Daycounthouse x, String what, Call call) {
+    throwing(x, IllegalStateException.class, what, call);
+  }
+
+  static void index(Daycounthouse x, String what, Call call) {
+    throwing(x, IndexOutOfBoundsException.class, what, call);
   }
 
   static void finish(String test) {

@@ -9,15 +9,18 @@ import java.util.Random;
 public final class ModelTest {
   private static final Map<String, Method> FAST = methods(Daycounthouse.class);
   private static final Map<String, Method> SLOW = methods(SlowHouse.class);
-  private static final String[] CHANGES = {"feast", "moving", "unfeast", "round", "step", "schedule", "loan", "holiday",
-      "early", "change", "late", "order", "pay", "bond", "sink", "call", "reset", "link", "ex", "quote", "unquote",
-      "type", "wipe", "terms", "undo", "knock"};
+  private static final String[] CHANGES = {"feast", "moving", "unfeast", "round", "step", "step", "schedule", "loan",
+      "holiday", "early", "early", "change", "change", "late", "order", "pay", "pay", "pay", "bond", "sink", "sink",
+      "call", "call", "reset", "link", "ex", "quote", "quote", "unquote", "type", "wipe", "terms", "undo", "knock"};
   private static final String[] ASKS = {"day", "date", "weekDay", "isBank", "roll", "later", "banks", "share", "simple",
-      "grown", "stepped", "row", "period", "planned", "all", "rateOf", "owes", "flow", "accrued", "price", "yieldOf",
-      "worst", "duration", "factor", "forward", "par", "swap", "split", "fault", "house"};
+      "grown", "stepped", "row", "period", "planned", "all", "rateOf", "owes", "owes", "flow", "accrued", "accrued",
+      "price", "price", "yieldOf", "yieldOf", "worst", "worst", "duration", "duration", "factor", "forward", "par",
+      "swap", "split", "fault", "house"};
 
   private static Random random;
   private static int base;
+  /** Asked for what is there, so that most calls mean something that is. */
+  private static SlowHouse known;
 
   private static Map<String, Method> methods(Class<?> type) {
     Map<String, Method> map = new HashMap<>();
@@ -81,12 +84,27 @@ public final class ModelTest {
     return isOneIn(8) ? 0 : isOneIn(3) ? near(0, 9999) : in(100, 1200);
   }
 
-  private static int k() {
-    return isOneIn(15) ? near(0, 25) : in(1, 6);
+  /** A LOAN (of 3) or a BOND (of 4) that is there, mostly. */
+  private static int one(int what) {
+    int count = known.house(what);
+    return count == 0 || isOneIn(40) ? near(0, 3) : in(0, count - 1);
   }
 
-  private static int one() {
-    return isOneIn(20) ? near(0, 3) : in(0, 1);
+  private static int periodsOf(int what, int one) {
+    Object count = Check.answer(() -> what == 3 ? known.all(one, 5) : known.periodsOfBond(one));
+    return count instanceof Integer n ? n : 1;
+  }
+
+  private static int k(int what, int one) {
+    return isOneIn(25) ? near(0, 25) : in(1, periodsOf(what, one));
+  }
+
+  /** A day near to the end of a PERIOD of a LOAN or BOND. */
+  private static int dayOf(int what, int one) {
+    int k = in(1, periodsOf(what, one));
+    Object end = Check.answer(() -> what == 3 ? known.planned(one, k, 0) : known.flow(one, k, 0));
+    int behind = isOneIn(2) ? in(-8, 8) : in(-60, 65);
+    return end instanceof Integer e && !isOneIn(15) ? e + behind : day();
   }
 
   private static int sign() {
@@ -95,10 +113,10 @@ public final class ModelTest {
 
   private static Object[] schedule() {
     int months = isOneIn(20) ? near(1, 24) : new int[] {1, 2, 3, 6, 12, 24}[in(0, 5)];
-    base = isOneIn(6) ? in(0, 36524) : isOneIn(8) ? in(0, 9) : base;
-    int long1 = in(1, Math.max(2, Math.min(24, months * 30 < 0 ? 1 : 24))) * Math.max(1, Math.min(24, months)) * 30;
+    base = isOneIn(9) ? in(0, 36524) : isOneIn(9) ? in(0, 9) : base;
     int from = isOneIn(20) ? day() : Math.min(36524, base + in(0, 40));
-    int to = isOneIn(20) ? day() : Math.min(36524, from + long1 + in(-29, 29));
+    int length = in(1, isOneIn(3) ? 25 : 8) * Math.max(1, Math.min(months, 24)) * 30 + in(-29, 29);
+    int to = isOneIn(20) ? day() : Math.min(36524, from + length);
     return args(from, to, months, random.nextBoolean(), random.nextBoolean(), isOneIn(20) ? near(0, 4) : in(0, 4));
   }
 
@@ -126,34 +144,54 @@ public final class ModelTest {
       case "stepped": return args(sum(999999), a, b, near(0, 7));
       case "schedule": return schedule();
       case "loan": return args(isOneIn(3) ? in(1, 50) : near(1, 999999), rate(), near(0, 2), near(0, 7));
-      case "holiday": return args(one(), isOneIn(4) ? near(0, 24) : in(0, 3));
-      case "early": return args(one(), k(), sum(isOneIn(2) ? 5000 : 999999));
-      case "change": return args(one(), k(), isOneIn(5) ? -1 : rate());
-      case "planned": return args(one(), k(), near(0, 5));
-      case "all": case "owes": break;
-      case "rateOf": return args(one());
       case "late": return args(near(0, 9999), isOneIn(2) ? near(0, 60) : in(0, 8));
       case "order": return args(near(0, 5));
-      case "pay": return args(one(), b, isOneIn(3) ? near(1, 999999) : in(1, 3000));
       case "bond": return args(isOneIn(3) ? in(1, 50) : near(1, 999999), rate());
-      case "sink": return args(one(), k(), sum(999999));
-      case "call": return args(one(), k(), isOneIn(5) ? -1 : near(50, 200));
-      case "reset": return args(one(), k(), isOneIn(5) ? -1 : rate());
-      case "link": return args(one(), k(), isOneIn(5) ? -1 : near(1, 999));
-      case "ex": return args(one(), near(0, 60));
-      case "flow": return args(one(), k(), near(0, 4));
-      case "accrued": return args(one(), b);
-      case "price": case "duration": return args(one(), b, isOneIn(3) ? near(0, 999999) : in(0, 60000));
-      case "yieldOf": case "worst": return args(one(), b, isOneIn(6) ? near(1, 99999999) : in(1, 1200000));
-      case "quote": return args(near(0, 50), near(1, 200));
-      case "factor": case "forward": case "par": return args(near(0, 6));
-      case "swap": return args(near(0, 50), near(1, 6));
+      case "quote": return args(isOneIn(2) ? in(0, 9) : near(0, 50), isOneIn(2) ? in(70, 120) : near(1, 200));
+      case "factor": case "forward": case "par": return args(in(-1, known.house(5) + 1));
+      case "swap": return args(near(0, 50), in(0, known.house(5) + 1));
       case "split": return args(sum(999999), sum(999999), sum(999999), random.nextBoolean());
       case "type": return args(sign());
       case "house": return args(near(0, 11));
+      default: return loanArgsOf(name, one(3));
+    }
+  }
+
+  private static Object[] loanArgsOf(String name, int loan) {
+    switch (name) {
+      case "holiday": return args(loan, isOneIn(4) ? near(0, 24) : in(0, periodsOf(3, loan) - 1));
+      case "early": return args(loan, k(3, loan), sum(isOneIn(2) ? 5000 : 999999));
+      case "change": return args(loan, k(3, loan), isOneIn(5) ? -1 : rate());
+      case "planned": return args(loan, k(3, loan), near(0, 5));
+      case "all": return args(loan, near(0, 5));
+      case "rateOf": return args(loan);
+      case "pay": return args(loan, dayOf(3, loan), isOneIn(3) ? near(1, 999999) : in(1, 3000));
+      case "owes": return args(loan, dayOf(3, loan), near(0, 5));
+      default: return bondArgsOf(name, one(4));
+    }
+  }
+
+  private static Object[] bondArgsOf(String name, int bond) {
+    switch (name) {
+      case "sink": return args(bond, k(4, bond), sum(isOneIn(2) ? 5000 : 999999));
+      case "call": return args(bond, k(4, bond), isOneIn(5) ? -1 : near(50, 200));
+      case "reset": return args(bond, k(4, bond), isOneIn(5) ? -1 : rate());
+      case "link": return args(bond, k(4, bond), isOneIn(5) ? -1 : near(1, 999));
+      case "ex": return args(bond, near(0, 60));
+      case "flow": return args(bond, k(4, bond), near(0, 4));
+      case "accrued": return args(bond, dayOf(4, bond));
+      case "price": case "duration":
+        return args(bond, dayOf(4, bond), isOneIn(3) ? near(0, 999999) : in(0, 60000));
+      case "yieldOf": case "worst":
+        return args(bond, dayOf(4, bond), isOneIn(6) ? near(1, 99999999) : aboutWorth(bond));
       default: return args();
     }
-    return name.equals("all") ? args(one(), near(0, 5)) : args(one(), b, near(0, 5));
+  }
+
+  /** A price that some yield has, mostly. */
+  private static int aboutWorth(int bond) {
+    Object price = Check.answer(() -> known.price(bond, known.flow(bond, 1, 0) - 1, 20000));
+    return price instanceof Integer p ? Math.max(1, p + in(-p / 3, p / 9)) : in(1, 999999);
   }
 
   private static void both(int run, Daycounthouse fast, SlowHouse slow, String name, Object... args) {
@@ -182,6 +220,7 @@ public final class ModelTest {
     base = in(0, 30000);
     Daycounthouse fast = new Daycounthouse();
     SlowHouse slow = new SlowHouse();
+    known = slow;
     for (int i = 0; i < calls; i++) {
       if (isOneIn(40)) {
         typeTerms(seed, fast, slow);

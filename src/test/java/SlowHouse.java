@@ -697,6 +697,11 @@ public final class SlowHouse {
     return before;
   }
 
+  /** Told to tests only. */
+  int periodsOfBond(int bond) {
+    return bondAt(bond).row.size() - 1;
+  }
+
   private static int indexAt(Bond b, int k) {
     var told = b.indexes.floorEntry(k);
     return told == null ? 100 : told.getValue();

@@ -1,0 +1,112 @@
+/** The limits that the document names, and what one object makes in its 512 calls. */
+public final class LimitsTest {
+  private static void limits() {
+    Daycounthouse x = new Daycounthouse();
+    for (int i = 1; i <= 6; i++) {
+      Check.due("6 feasts", i % 2 == 0 ? x.feast(5, i) : x.moving(i), i);
+    }
+    Check.state(x, "a seventh feast", () -> x.feast(1, 1));
+    Check.state(x, "a seventh feast", () -> x.moving(1));
+    for (int i = 1; i <= 8; i++) {
+      Check.due("8 steps", x.step(i * 10, i), -1);
+    }
+    Check.state(x, "a ninth step", () -> x.step(5, 1));
+    Check.due("24 periods", x.schedule(0, 730, 1, false, false, 0), 24);
+    Check.due("25 periods", x.schedule(0, 732, 1, false, false, 0), -9);
+    Check.due("24 periods, from the last day back", x.schedule(1, 731, 1, true, false, 0), 24);
+    Check.due("25 periods, from the last day back", x.schedule(0, 732, 1, true, false, 0), -9);
+    for (int i = 0; i < 3; i++) {
+      Check.due("3 loans", x.loan(1000, 500, i, i), i);
+      Check.due("3 bonds", x.bond(1000, 500), i);
+    }
+    Check.state(x, "a fourth loan", () -> x.loan(1000, 500, 0, 0));
+    Check.state(x, "a fourth bond", () -> x.bond(1000, 500));
+    for (int i = 0; i < 20; i++) {
+      Check.due("20 paid days", x.pay(2, 100 + i, 5), 5);
+    }
+    Check.state(x, "a day more", () -> x.pay(2, 99, 5));
+    for (int i = 1; i <= 6; i++) {
+      Check.due("6 bonds of the curve", x.quote(1, 100), i);
+    }
+    Check.state(x, "a seventh bond of the curve", () -> x.quote(1, 100));
+    for (int i = 1; i <= 14; i++) {
+      Check.due("14 signs", x.type(10), i);
+    }
+    Check.state(x, "a fifteenth sign", () -> x.type(10));
+    for (int i = 9; i >= 0; i--) {
+      Check.due("10 changes", x.undo(), i);
+    }
+    Check.state(x, "an eleventh change", x::undo);
+  }
+
+  /** All that is dear at once: each PERIOD with what makes a payment anew, and with a CALL. */
+  private static Daycounthouse dearest() {
+    Daycounthouse x = new Daycounthouse();
+    for (int i = 0; i < 6; i++) {
+      x.moving(i * 9);
+    }
+    x.schedule(10000, 10730, 1, false, false, 3);
+    for (int i = 0; i < 3; i++) {
+      x.loan(999999, 9999, 0, 6);
+      x.bond(999999, 9999);
+      for (int k = 1; k <= 24; k++) {
+        x.change(i, k, 9999 - k);
+        x.link(i, k, 999 - k);
+        if (k < 24) {
+          x.call(i, k, 200 - k);
+        }
+      }
+      for (int k = 0; k < 5; k++) {
+        x.pay(i, 10000 + k, 1);
+      }
+    }
+    for (int i = 0; i < 6; i++) {
+      x.quote(49, 199);
+    }
+    return x;
+  }
+
+  private static void manyCalls() {
+    Daycounthouse x = dearest();
+    var bean = (com.sun.management.ThreadMXBean) java.lang.management.ManagementFactory.getThreadMXBean();
+    long digest = x.digest();
+    long start = bean.getThreadAllocatedBytes(Thread.currentThread().getId());
+    for (int i = 0; i < 250; i++) {
+      if (x.digest() != digest) {
+        Check.due("512 calls: the same digest", false, true);
+      }
+    }
+    long each = (bean.getThreadAllocatedBytes(Thread.currentThread().getId()) - start) / 250;
+    // A room of 7.3 million elements leaves each of 512 calls some 14,000; a byte is an element here at most.
+    Check.due("a digest makes " + each + " bytes of objects", each < 8000, true);
+    start = bean.getThreadAllocatedBytes(Thread.currentThread().getId());
+    Daycounthouse y = new Daycounthouse();
+    long made = bean.getThreadAllocatedBytes(Thread.currentThread().getId()) - start;
+    Check.due("an object makes " + made + " bytes of objects", made < 100000, true);
+    Check.due("a second one", y.knock(), 1);
+  }
+
+  private static void allCallsChange() {
+    Daycounthouse x = new Daycounthouse();
+    for (int i = 1; i <= 511; i++) {
+      x.late(i, i % 61);
+    }
+    Check.due("the call 512", x.house(7), 511);
+    Daycounthouse y = new Daycounthouse();
+    y.schedule(0, 366, 1, false, false, 0);
+    y.loan(1, 0, 0, 0);
+    for (int i = 1; i <= 509; i++) {
+      y.pay(0, 5, 999999);
+    }
+    Check.due("all that can be paid", y.owes(0, 5, 4), 509 * 999999);
+  }
+
+  public static void main(String[] args) {
+    limits();
+    manyCalls();
+    allCallsChange();
+    Check.finish("LimitsTest");
+  }
+
+  private LimitsTest() {}
+}

@@ -70,18 +70,18 @@ public final class LimitsTest {
     Daycounthouse x = dearest();
     var bean = (com.sun.management.ThreadMXBean) java.lang.management.ManagementFactory.getThreadMXBean();
     long digest = x.digest();
-    long start = bean.getThreadAllocatedBytes(Thread.currentThread().getId());
+    long start = bean.getCurrentThreadAllocatedBytes();
     for (int i = 0; i < 250; i++) {
       if (x.digest() != digest) {
         Check.due("512 calls: the same digest", false, true);
       }
     }
-    long each = (bean.getThreadAllocatedBytes(Thread.currentThread().getId()) - start) / 250;
+    long each = (bean.getCurrentThreadAllocatedBytes() - start) / 250;
     // A room of 7.3 million elements leaves each of 512 calls some 14,000; a byte is an element here at most.
     Check.due("a digest makes " + each + " bytes of objects", each < 8000, true);
-    start = bean.getThreadAllocatedBytes(Thread.currentThread().getId());
+    start = bean.getCurrentThreadAllocatedBytes();
     Daycounthouse y = new Daycounthouse();
-    long made = bean.getThreadAllocatedBytes(Thread.currentThread().getId()) - start;
+    long made = bean.getCurrentThreadAllocatedBytes() - start;
     Check.due("an object makes " + made + " bytes of objects", made < 100000, true);
     Check.due("a second one", y.knock(), 1);
   }

@@ -72,6 +72,10 @@ public final class CountsTest {
     share(x, 0, 366, 7, "1/1");
     share(x, 0, 36524, 7, "100/1");
     share(x, 59, 424, 7, "1/1");
+    // Ends are not kept: March 29 and 2 days, March 28 and 2 days, May 30 and 30 days.
+    share(x, 59, 90, 7, "4/45");
+    share(x, 424, 454, 7, "4/45");
+    share(x, 120, 180, 7, "1/6");
     x.feast(1, 4);
     share(x, 0, 9, 6, "1/63");
     int[][] wrong = {{-1, 5, 0}, {5, 36525, 0}, {6, 5, 0}, {5, 6, -1}, {5, 6, 8}, {MIN, MAX, MIN}, {0, 1, MAX}};

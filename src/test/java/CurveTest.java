@@ -8,6 +8,8 @@ public final class CurveTest {
 
   private static void promise44() {
     Daycounthouse x = new Daycounthouse();
+    Check.due("44: the least factor", x.quote(0, 1) + " " + x.factor(1), "1 1/100");
+    x.undo();
     Check.due("44: quote(0, 50)", x.quote(0, 50), 1);
     int before = x.house(10);
     Check.due("44: a factor of 0", x.quote(50, 25), -9);

@@ -54,7 +54,62 @@ public final class HouseTest {
     return number;
   }
 
+  /** All that is told of 24 PERIODS, 20 days, 8 STEPS, 6 FEASTS and 6 years comes back. */
+  private static void wholeComesBack() {
+    Daycounthouse x = new Daycounthouse();
+    for (int i = 1; i <= 6; i++) {
+      x.feast(i, i + 10);
+      x.quote(i, 90 + i);
+    }
+    for (int i = 1; i <= 8; i++) {
+      x.step(i, i);
+    }
+    x.schedule(0, 731, 1, false, false, 0);
+    x.loan(999999, 900, 1, 4);
+    x.bond(999999, 900);
+    for (int k = 1; k <= 24; k++) {
+      x.early(0, k, k);
+      x.change(0, k, k);
+      x.sink(0, k, k);
+      x.reset(0, k, k);
+      x.link(0, k, k);
+      if (k < 24) {
+        x.call(0, k, 100 + k);
+      }
+    }
+    for (int i = 0; i < 20; i++) {
+      x.pay(0, 700 + i, 1000 + i);
+    }
+    // Then there is room for one more change, and the digest tells the same number of them.
+    x.order(3);
+    x.undo();
+    long before = x.digest();
+    x.order(5);
+    x.undo();
+    Check.due("55: all comes back", x.digest(), before);
+    for (int k = 1; k <= 24; k++) {
+      Check.due("55: early of " + k, x.early(0, k, 0), k);
+      Check.due("55: change of " + k, x.change(0, k, -1), k);
+      Check.due("55: sink of " + k, x.sink(0, k, 0), k);
+      Check.due("55: reset of " + k, x.reset(0, k, -1), k);
+      Check.due("55: link of " + k, x.link(0, k, -1), k);
+      Check.due("55: call of " + k, k < 24 ? x.call(0, k, -1) : 124, 100 + k);
+    }
+    for (int i = 1; i <= 8; i++) {
+      Check.due("55: the step of " + i, x.step(i, -1), i);
+    }
+    for (int i = 0; i < 20; i++) {
+      Check.due("55: paid on " + (700 + i), x.pay(0, 700 + i, 1), 1001 + i);
+    }
+    String par = x.par(6);
+    x.unquote();
+    x.undo();
+    Check.due("55: the curve", x.par(6) + " " + x.isSound(), par + " true");
+    Check.due("55: a feast", x.isBank(x.day(2003, 6, 16)), false);
+  }
+
   private static void promise55() {
+    wholeComesBack();
     Daycounthouse empty = new Daycounthouse();
     Check.state(empty, "55: undo() without one", empty::undo);
     takenBack("feast", x -> x.feast(1, 6));
@@ -175,6 +230,22 @@ public final class HouseTest {
     slow.knock();
     x.knock();
     Check.due("59: behind a knock", x.digest(), slow.digest());
+    for (int coupon = 0; coupon < 3000; coupon += 150) {
+      longBonds(coupon);
+    }
+  }
+
+  /** Bonds of 24 times 24 months, so that a digest tells price, duration and worst by ever so little apart. */
+  private static void longBonds(int coupon) {
+    Daycounthouse x = new Daycounthouse();
+    SlowHouse slow = new SlowHouse();
+    x.schedule(coupon, coupon + 17500, 24, false, false, 1);
+    slow.schedule(coupon, coupon + 17500, 24, false, false, 1);
+    for (int i = 0; i < 3; i++) {
+      x.bond(999999 - coupon, coupon + i);
+      slow.bond(999999 - coupon, coupon + i);
+    }
+    Check.due("59: a coupon of " + coupon, x.digest(), slow.digest());
   }
 
   public static void main(String[] args) {

@@ -86,6 +86,54 @@ public final class LimitsTest {
     Check.due("a second one", y.knock(), 1);
   }
 
+  /** The greatest numbers that the document lets in, where a long or a Wide could be too short. */
+  private static void greatestNumbers() {
+    for (int mode = 0; mode <= 3; mode++) {
+      Daycounthouse x = new Daycounthouse();
+      SlowHouse slow = new SlowHouse();
+      Check.due("24 times 24 months", x.schedule(100, 17631, 24, false, false, 1), 24);
+      slow.schedule(100, 17631, 24, false, false, 1);
+      x.round(mode);
+      slow.round(mode);
+      for (int i = 0; i < 3; i++) {
+        Check.due("a loan", x.loan(999999, 9999, i, 2), slow.loan(999999, 9999, i, 2));
+        Check.due("a bond", x.bond(999999, 9999), slow.bond(999999, 9999));
+        Check.due("its index", x.link(i, 1, 999), slow.link(i, 1, 999));
+        Check.due("its call", x.call(i, 1 + i, 200), slow.call(i, 1 + i, 200));
+      }
+      Check.due("the digest of great numbers", x.digest(), slow.digest());
+      for (int day : new int[] {100, 101, 500, 830, 831, 16000, 17630}) {
+        greatestOf(x, slow, day);
+      }
+      for (int count = 0; count <= 7; count++) {
+        x.step(count * 4000, 9999);
+        slow.step(count * 4000, 9999);
+        int how = count;
+        Check.due("simple " + count, x.simple(999999, 9999, 0, 36524, how), slow.simple(999999, 9999, 0, 36524, how));
+        Check.due("stepped " + count, x.stepped(999999, 0, 36524, how), slow.stepped(999999, 0, 36524, how));
+      }
+      for (int perYear : new int[] {1, 2, 12, 364, 365}) {
+        for (boolean isEach : new boolean[] {false, true}) {
+          Check.due("grown by " + perYear, x.grown(999999, 9999, 60, perYear, isEach),
+              slow.grown(999999, 9999, 60, perYear, isEach));
+        }
+      }
+    }
+  }
+
+  private static void greatestOf(Daycounthouse x, SlowHouse slow, int day) {
+    for (int gain : new int[] {0, 1, 500000, 999998, 999999}) {
+      Check.due("price on " + day + " by " + gain, x.price(0, day, gain), slow.price(0, day, gain));
+      Check.due("duration on " + day + " by " + gain, x.duration(0, day, gain), slow.duration(0, day, gain));
+    }
+    int most = x.price(0, day, 0);
+    for (int price : new int[] {1, 999999, 30000000, Math.min(99999999, most), 99999999}) {
+      Check.due("yieldOf on " + day + " of " + price, x.yieldOf(0, day, price), slow.yieldOf(0, day, price));
+      Check.due("worst on " + day + " of " + price, x.worst(0, day, price), slow.worst(0, day, price));
+    }
+    Check.due("accrued on " + day, x.accrued(0, day), slow.accrued(0, day));
+  }
+
   private static void allCallsChange() {
     Daycounthouse x = new Daycounthouse();
     for (int i = 1; i <= 511; i++) {
@@ -104,6 +152,7 @@ public final class LimitsTest {
   public static void main(String[] args) {
     limits();
     manyCalls();
+    greatestNumbers();
     allCallsChange();
     Check.finish("LimitsTest");
   }

@@ -72,6 +72,12 @@ public final class LoansTest {
     Check.due("23: in two periods", x.all(0, 4), 2);
     Check.due("23: none", x.early(0, 2, 0), 999999);
     Check.due("23: parts as ever", line(x, 2), "100 100 100 100 100 100 100 100 100 100 100 100");
+    x.undo();
+    Daycounthouse y = year();
+    y.loan(1006, 1200, 1, 4);
+    y.early(0, 10, 1);
+    Check.due("23: a coin is enough, 165 / 2 and not 84", y.planned(0, 11, 2), 83);
+    Check.due("23: none", x.early(0, 2, 0), 999999);
     Check.due("23: in the last one", x.early(0, 12, 50), 0);
     Check.due("23: nothing is left for it", x.planned(0, 12, 3), 0);
     Check.due("23: house(10)", x.house(10), 6);
@@ -129,6 +135,12 @@ public final class LoansTest {
     x.round(1);
     x.loan(1200, 1200, 2, 4);
     Check.due("25: nothing till the end", x.planned(1, 11, 2) + " " + x.planned(1, 12, 2), "0 1200");
+    // A payment of 1210 that is whole is not rounded up.
+    Daycounthouse w = new Daycounthouse();
+    w.schedule(0, 731, 12, false, false, 0);
+    w.round(3);
+    w.loan(2100, 1000, 0, 7);
+    Check.due("25: 210 and 1000, 110 and 1100", line(w, 1) + " " + line(w, 2), "210 110 1000 1100");
     // Rates so high that the payment by the months is below the interest by the days: the part is not below 0.
     Daycounthouse y = new Daycounthouse();
     y.schedule(0, 36, 1, false, false, 0);

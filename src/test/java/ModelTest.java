@@ -63,12 +63,18 @@ public final class ModelTest {
   }
 
   private static int day() {
-    return switch (random.nextInt(8)) {
+    return switch (random.nextInt(9)) {
       case 0 -> near(0, 36524);
+      case 3 -> monthEnd() + in(-2, 1);
       case 1 -> in(36400, 36524);
       case 2 -> in(0, 100);
       default -> Math.min(36524, base + in(-5, 900));
     };
+  }
+
+  private static int monthEnd() {
+    java.time.LocalDate date = SlowHouse.dateOf(Math.min(36524, base + in(0, 900)));
+    return SlowHouse.dayOf(date.withDayOfMonth(date.lengthOfMonth()));
   }
 
   private static int day(int[] earlier) {

@@ -22,7 +22,8 @@ public final class EdgesOfCountsTest extends Edges {
       due(x.house(6), 1);
       due(x.simple(1, 5000, 0, 365, 1), 1);
     });
-    test(12, "0 down to whole coins, 1 to the nearest, a half up, 2 to the nearest, a half to the even one, 3 up.", x -> {
+    test(12, "0 down to whole coins, 1 to the nearest, a half up, 2 to the nearest, a half to the even one, 3 "
+        + "up.", x -> {
       due(modes(1, 1), "0 0 0 1");
       due(modes(1, 4999), "0 0 0 1");
       due(modes(1, 5000), "0 1 0 1");
@@ -60,8 +61,8 @@ public final class EdgesOfCountsTest extends Edges {
   }
 
   private static void sharesOfDays() {
-    test(13, "SHARE of a year from the DAY a to the DAY b (a not behind b; a with it, b not), by the count: "
-        + "0 days / 360.", x -> {
+    test(13, "SHARE of a year from the DAY a to the DAY b (a not behind b; a with it, b not), by the count: 0 days / "
+        + "360.", x -> {
       share(x, 0, LAST_DAY, 0, "9131/90");
       share(x, 0, 360, 0, "1/1");
       share(x, 0, 359, 0, "359/360");
@@ -176,8 +177,8 @@ public final class EdgesOfCountsTest extends Edges {
         due(inMode(mode).simple(999999, 9999, 0, LAST_DAY, 0), mode == 0 ? 101445308 : 101445309);
       }
     });
-    test(14, "Throws `IllegalArgumentException` if amount is not 0 to 999999, rate not 0 to 9999, a or b is no DAY, "
-        + "a is behind b, or count is not 0 to 7", x -> {
+    test(14, "Throws `IllegalArgumentException` if amount is not 0 to 999999, rate not 0 to 9999, a or b is no DAY, a "
+        + "is behind b, or count is not 0 to 7", x -> {
       bounds(Daycounthouse::new, 0, 0, 999999, 999999, (h, amount) -> h.simple(amount, 5000, 0, 730, 1));
       bounds(Daycounthouse::new, 0, 0, 9999, 9999, (h, rate) -> h.simple(10000, rate, 0, 365, 1));
       days(Daycounthouse::new, 36524, 0, (h, a) -> h.simple(365000, 10, a, LAST_DAY, 1));
@@ -354,8 +355,8 @@ public final class EdgesOfCountsTest extends Edges {
       x.round(0);
       due(x.stepped(999999, 0, LAST_DAY, 0), 101445308);
     });
-    test(17, "Throws `IllegalArgumentException` if amount is not 0 to 999999, a or b is no DAY, a is behind b, or count "
-        + "is not 0 to 7", x -> {
+    test(17, "Throws `IllegalArgumentException` if amount is not 0 to 999999, a or b is no DAY, a is behind b, or "
+        + "count is not 0 to 7", x -> {
       bounds(EdgesOfCountsTest::fullRate, 0, 0, 999999, 999899, (h, amount) -> h.stepped(amount, 0, 365, 1));
       days(EdgesOfCountsTest::fullRate, 3652035, 0, (h, a) -> h.stepped(36500, a, LAST_DAY, 1));
       days(EdgesOfCountsTest::fullRate, 0, 3652035, (h, b) -> h.stepped(36500, 0, b, 1));
@@ -483,7 +484,8 @@ public final class EdgesOfCountsTest extends Edges {
     });
     test(18, "Throws `IllegalArgumentException` if from or to is no DAY, from is not ahead of to, months is not 1 to "
         + "24, or how is not 0 to 4", x -> {
-      bounds(Daycounthouse::new, 0, REFUSED, LAST_DAY - 1, 1, (h, from) -> h.schedule(from, LAST_DAY, 1, true, true, 0));
+      bounds(Daycounthouse::new, 0, REFUSED, LAST_DAY - 1, 1, (h, from) ->
+          h.schedule(from, LAST_DAY, 1, true, true, 0));
       bounds(Daycounthouse::new, 1, 1, LAST_DAY, REFUSED, (h, to) -> h.schedule(0, to, 1, false, false, 0));
       bounds(EdgesOfCountsTest::twoMonths, 1, 24, 24, 1, (h, many) -> h.schedule(0, 731, many, false, false, 0));
       bounds(EdgesOfCountsTest::twoMonths, 0, 24, 4, 24, (h, how) -> h.schedule(0, 731, 1, false, false, how));

@@ -26,7 +26,8 @@ public final class EdgesOfCurveTest extends Edges {
   }
 
   private static void quotes() {
-    test(44, "CURVE: at most 6 told bonds of 1, 2, 3, ... years, each with a yearly coupon of c per 100 and a price.", x -> {
+    test(44, "CURVE: at most 6 told bonds of 1, 2, 3, ... years, each with a yearly coupon of c per 100 and a "
+        + "price.", x -> {
       for (int k = 1; k <= 6; k++) {
         due(x.quote(k, 100), k);
         due(x.house(5), k);
@@ -89,7 +90,8 @@ public final class EdgesOfCurveTest extends Edges {
       }
       state(y, Daycounthouse::unquote);
     });
-    test(45, "Throws `IllegalStateException` if there is none", x -> nothing(Daycounthouse::new, STATE, Daycounthouse::unquote));
+    test(45, "Throws `IllegalStateException` if there is none", x ->
+        nothing(Daycounthouse::new, STATE, Daycounthouse::unquote));
   }
 
   private static String fraction(BigInteger top, BigInteger bottom) {
@@ -124,7 +126,8 @@ public final class EdgesOfCurveTest extends Edges {
   }
 
   private static void factors() {
-    test(46, "FACTOR of 0 years is 1; that of k years: (price - c * the sum of FACTORS of 1 to k - 1) / (100 + c).", x -> {
+    test(46, "FACTOR of 0 years is 1; that of k years: (price - c * the sum of FACTORS of 1 to k - 1) / (100 + "
+        + "c).", x -> {
       due(x.factor(0), "1/1");
       sixExactly(50, 200);
       sixExactly(49, 199);
@@ -134,7 +137,8 @@ public final class EdgesOfCurveTest extends Edges {
       sixExactly(29, 100);
     });
     test(46, "Returns FACTOR, as a FRACTION.", x -> {
-      due(sixQuotes(0, 1).factor(6) + " " + sixQuotes(0, 200).factor(6) + " " + sixQuotes(0, 100).factor(6), "1/100 2/1 1/1");
+      due(sixQuotes(0, 1).factor(6) + " " + sixQuotes(0, 200).factor(6), "1/100 2/1");
+      due(sixQuotes(0, 100).factor(6), "1/1");
     });
     test(46, "Throws `IndexOutOfBoundsException` if k is below 0, or above how many bonds there are", x -> {
       numbers(Daycounthouse::new, 0, "1/1", 0, "1/1", Daycounthouse::factor);
@@ -166,7 +170,8 @@ public final class EdgesOfCurveTest extends Edges {
       numbers(EdgesOfCurveTest::half, 1, "1/1", 1, "1/1", Daycounthouse::par);
       numbers(EdgesOfCurveTest::full, 1, "1/20", 6, "1/20", Daycounthouse::par);
     });
-    test(49, "SWAP of a rate of r per 100 and k years: 100 * (1 - FACTOR of k) - r * the sum of FACTORS of 1 to k.", x -> {
+    test(49, "SWAP of a rate of r per 100 and k years: 100 * (1 - FACTOR of k) - r * the sum of FACTORS of 1 to "
+        + "k.", x -> {
       x.quote(0, 1);
       x.quote(0, 200);
       due(x.swap(0, 1) + " " + x.swap(50, 1) + " " + x.swap(0, 2) + " " + x.swap(50, 2), "99/1 197/2 -100/1 -401/2");
@@ -199,8 +204,8 @@ public final class EdgesOfCurveTest extends Edges {
       split(x, 5, 999999, 0, 5, 5);
       split(x, 0, 999999, 999999, 0, 0);
     });
-    test(50, "whether both get their shares: A the floor of sum * a / (a + b), B likewise, and a coin that is left goes to A "
-        + "(none of this, if the sum is enough for both); otherwise A comes first", x -> {
+    test(50, "whether both get their shares: A the floor of sum * a / (a + b), B likewise, and a coin that is left "
+        + "goes to A (none of this, if the sum is enough for both); otherwise A comes first", x -> {
       split(x, 1, 1, 1, 1, 1);
       split(x, 1, 1, 2, 1, 1);
       split(x, 2, 1, 2, 1, 1);
@@ -250,8 +255,8 @@ public final class EdgesOfCurveTest extends Edges {
   }
 
   private static void slips() {
-    test(51, "The SLIP is a row of at most 14 SIGNS: 0 to 9 digits, 10 \"L\", 11 \"B\", 12 \",\", 13 \"%\", 14 \"a\", 15 \"p\", "
-        + "16 \"e\".", x -> {
+    test(51, "The SLIP is a row of at most 14 SIGNS: 0 to 9 digits, 10 \"L\", 11 \"B\", 12 \",\", 13 \"%\", 14 \"a\", "
+        + "15 \"p\", 16 \"e\".", x -> {
       for (int many = 1; many <= 14; many++) {
         due(x.type(many + 2), many);
       }
@@ -299,8 +304,8 @@ public final class EdgesOfCurveTest extends Edges {
   }
 
   private static void faults() {
-    test(53, "Terms: \"L\", an AMOUNT, \",\", a rate, \"%\", and one of \"a\" (kind 0), \"p\" (1), \"e\" (2); or \"B\", a FACE, "
-        + "\",\", a coupon, \"%\".", x -> {
+    test(53, "Terms: \"L\", an AMOUNT, \",\", a rate, \"%\", and one of \"a\" (kind 0), \"p\" (1), \"e\" (2); or "
+        + "\"B\", a FACE, \",\", a coupon, \"%\".", x -> {
       for (String text : new String[] {"L1,0%a", "L999999,9999%p", "L10,0000%e", "B1,0%", "B999999,9999%"}) {
         due(fault(text), NONE);
         for (int length = 0; length < text.length(); length++) {
@@ -316,8 +321,8 @@ public final class EdgesOfCurveTest extends Edges {
         due(fault(head + "1,99999") + " " + fault(head + "9999999"), "7 7");
       }
     });
-    test(53, "FAULT: the place (from 0 on) of the first SIGN that cannot stand there; how many SIGNS there are, if one is "
-        + "missing; NONE otherwise.", x -> {
+    test(53, "FAULT: the place (from 0 on) of the first SIGN that cannot stand there; how many SIGNS there are, if one "
+        + "is missing; NONE otherwise.", x -> {
       due(x.fault(), 0);
       due(fault("B1,0%a") + " " + fault("L1,0%aa") + " " + fault("L1,0%,"), "5 6 5");
       due(fault("LLLLLLLLLLLLLL") + " " + fault("00000000000000"), "1 0");
@@ -356,7 +361,8 @@ public final class EdgesOfCurveTest extends Edges {
   }
 
   private static void terms() {
-    test(54, "Makes what the SLIP tells (it stays there): a LOAN with the count 0, or a BOND (CHANGE, if it is done).", x -> {
+    test(54, "Makes what the SLIP tells (it stays there): a LOAN with the count 0, or a BOND (CHANGE, if it is "
+        + "done).", x -> {
       change(ready(0, 0, "L999999,9999%e"), 0, Daycounthouse::terms);
       change(ready(2, 3, "L1,0%a"), 2, Daycounthouse::terms);
       change(ready(3, 2, "B999999,9999%"), 2, Daycounthouse::terms);
@@ -364,7 +370,9 @@ public final class EdgesOfCurveTest extends Edges {
       y.terms();
       Daycounthouse z = ready(0, 0);
       z.loan(999999, 9999, 2, 0);
-      due(y.planned(0, 1, 1) + " " + y.all(0, 2) + " " + y.planned(0, 1, 5), z.planned(0, 1, 1) + " " + z.all(0, 2) + " 9999");
+      for (int what = 0; what <= 5; what++) {
+        due(y.planned(0, 1, what) + " " + y.all(0, what), z.planned(0, 1, what) + " " + z.all(0, what));
+      }
       due(y.fault() + " " + y.wipe(), "-1 14");
       Daycounthouse w = ready(0, 0, "B999999,9999%").get();
       w.terms();
@@ -380,7 +388,8 @@ public final class EdgesOfCurveTest extends Edges {
       }
     });
     test(54, "Returns its number; -9 with a FAULT.", x -> {
-      for (String text : new String[] {"", "0", "a", "L", "B", "L5,5%", "B5,5", "L0", "L1234567", "B5,5%a", "L5,5%aa"}) {
+      String[] faulty = {"", "0", "a", "L", "B", "L5,5%", "B5,5", "L0", "L1234567", "B5,5%a", "L5,5%aa"};
+      for (String text : faulty) {
         refused(ready(0, 0, text), Daycounthouse::terms);
       }
       // Full are the others, or what the first SIGN does not tell.
@@ -389,8 +398,8 @@ public final class EdgesOfCurveTest extends Edges {
       refused(ready(3, 2, "B5,5"), Daycounthouse::terms);
       refused(ready(2, 3, "L5,5%"), Daycounthouse::terms);
     });
-    test(54, "Throws `IllegalStateException` if there is no ROW, or there are 3 LOANS, or 3 BONDS, by the first SIGN (of an "
-        + "empty SLIP, or with another first SIGN, if there is no ROW)", x -> {
+    test(54, "Throws `IllegalStateException` if there is no ROW, or there are 3 LOANS, or 3 BONDS, by the first SIGN "
+        + "(of an empty SLIP, or with another first SIGN, if there is no ROW)", x -> {
       for (String text : new String[] {"", "5", "%", "L", "B", "L5,5%a", "B5,5%", "B5,5%%"}) {
         nothing(() -> typed(new Daycounthouse(), text), STATE, Daycounthouse::terms);
       }
@@ -408,8 +417,8 @@ public final class EdgesOfCurveTest extends Edges {
   }
 
   private static void takenBack() {
-    test(54, "UNDO: the last 10 of the calls that are said to CHANGE (also if nothing is other then) can be taken back, one "
-        + "by one.", x -> {
+    test(54, "UNDO: the last 10 of the calls that are said to CHANGE (also if nothing is other then) can be taken "
+        + "back, one by one.", x -> {
       // Of the calls of this part just quote, unquote and terms, if they are done.
       x.schedule(0, 60, 1, false, false, 0);
       x.quote(5, 100);

@@ -203,8 +203,8 @@ public final class EdgesOfDaysTest extends Edges {
   }
 
   private static void easter() {
-    test(6, "EASTER of the year y: with a, b, c as y mod 19, y mod 4, y mod 7, d as (19 * a + 24) mod 30, e as "
-        + "(2 * b + 4 * c + 6 * d + 5) mod 7, it is March 22, d + e days on", x -> {
+    test(6, "EASTER of the year y: with a, b, c as y mod 19, y mod 4, y mod 7, d as (19 * a + 24) mod 30, e as (2 * b "
+        + "+ 4 * c + 6 * d + 5) mod 7, it is March 22, d + e days on", x -> {
       x.moving(1);
       for (int year = 2000; year <= 2099; year++) {
         int easter = x.day(year, 3, 1) + march(year) - 1;

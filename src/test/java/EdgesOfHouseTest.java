@@ -48,15 +48,15 @@ public final class EdgesOfHouseTest extends Edges {
   }
 
   private static final List<Function<Daycounthouse, Object>> CHANGES = List.of(
-      x -> x.feast(1, 6), x -> x.feast(2, 31), x -> x.moving(0), Daycounthouse::unfeast, x -> x.round(3), x -> x.round(1),
-      x -> x.step(60, 1), x -> x.step(50, 1), x -> x.step(50, 100), x -> x.step(50, NONE), x -> x.step(60, NONE),
-      x -> x.schedule(5, 50, 1, true, true, 1), x -> x.schedule(0, 731, 6, false, false, 0), x -> x.loan(7, 7, 1, 7),
-      x -> x.holiday(0, 3), x -> x.holiday(0, 0), x -> x.early(0, 1, 5), x -> x.early(0, 1, 0), x -> x.change(0, 1, 5),
-      x -> x.change(0, 1, NONE), x -> x.late(0, 0), x -> x.late(25, 5), x -> x.order(5), x -> x.order(0),
-      x -> x.pay(0, 200, 1), x -> x.pay(0, 0, 1), x -> x.bond(7, 7), x -> x.sink(0, 1, 5), x -> x.sink(0, 1, 0),
-      x -> x.call(0, 1, 50), x -> x.call(0, 1, NONE), x -> x.reset(0, 1, 0), x -> x.reset(0, 1, NONE),
-      x -> x.link(0, 1, 1), x -> x.link(0, 1, NONE), x -> x.ex(0, 60), x -> x.ex(0, 0), x -> x.quote(5, 100),
-      Daycounthouse::unquote);
+      x -> x.feast(1, 6), x -> x.feast(2, 31), x -> x.moving(0), Daycounthouse::unfeast, x -> x.round(3),
+      x -> x.round(1), x -> x.step(60, 1), x -> x.step(50, 1), x -> x.step(50, 100), x -> x.step(50, NONE),
+      x -> x.step(60, NONE), x -> x.schedule(5, 50, 1, true, true, 1), x -> x.schedule(0, 731, 6, false, false, 0),
+      x -> x.loan(7, 7, 1, 7), x -> x.holiday(0, 3), x -> x.holiday(0, 0), x -> x.early(0, 1, 5), x -> x.early(0, 1, 0),
+      x -> x.change(0, 1, 5), x -> x.change(0, 1, NONE), x -> x.late(0, 0), x -> x.late(25, 5), x -> x.order(5),
+      x -> x.order(0), x -> x.pay(0, 200, 1), x -> x.pay(0, 0, 1), x -> x.bond(7, 7), x -> x.sink(0, 1, 5),
+      x -> x.sink(0, 1, 0), x -> x.call(0, 1, 50), x -> x.call(0, 1, NONE), x -> x.reset(0, 1, 0),
+      x -> x.reset(0, 1, NONE), x -> x.link(0, 1, 1), x -> x.link(0, 1, NONE), x -> x.ex(0, 60), x -> x.ex(0, 0),
+      x -> x.quote(5, 100), Daycounthouse::unquote);
 
   private static final List<Function<Daycounthouse, Object>> LOOKS = List.of(
       x -> x.day(2000, 1, 1), x -> x.date(0), x -> x.weekDay(0), x -> x.isBank(0), x -> x.roll(0, 1),
@@ -69,8 +69,8 @@ public final class EdgesOfHouseTest extends Edges {
       Daycounthouse::digest);
 
   private static void undone() {
-    test(55, "UNDO: the last 10 of the calls that are said to CHANGE (also if nothing is other then) can be taken back, one "
-        + "by one.", x -> {
+    test(55, "UNDO: the last 10 of the calls that are said to CHANGE (also if nothing is other then) can be taken "
+        + "back, one by one.", x -> {
       for (Function<Daycounthouse, Object> call : CHANGES) {
         Object want = answer(some(), call);
         due(want instanceof Class, false);
@@ -190,8 +190,9 @@ public final class EdgesOfHouseTest extends Edges {
         }
       }
     });
-    test(58, "with p as each BOND's PRICE (ROUNDED) by 30000 on the first DAY of its ROW, if that is above 0: by YIELD of p "
-        + "(if there is one) PRICE (not ROUNDED) is p or more, and by 1 more, if that YIELD is below 999999, less", x -> {
+    test(58, "with p as each BOND's PRICE (ROUNDED) by 30000 on the first DAY of its ROW, if that is above 0: by YIELD "
+        + "of p (if there is one) PRICE (not ROUNDED) is p or more, and by 1 more, if that YIELD is below 999999, "
+        + "less", x -> {
       // PRICE is nothing; ROUNDED up above all that comes; one that comes by each yield.
       x.schedule(0, 366, 12, false, false, 0);
       x.bond(1, 0);
@@ -283,12 +284,12 @@ public final class EdgesOfHouseTest extends Edges {
       due(x.digest(), whole(Daycounthouse::new, 0).longValue());
       due(x.house(10) + " " + x.house(11), "0 0");
     });
-    test(59, "A number d starts with 6904; then d becomes d * 31 + v, which wraps around as a 64-bit integer, for each v in "
-        + "this order: house() of 0 to 11; the codes of the signs of row(); how many BANK DAYS there are from 0 to 3000; "
-        + "LOAN by LOAN: all() of 0 to 5, rateOf(), PERIOD by PERIOD planned() of 0 to 5, owes() of 0 to 5 on the last DAY "
-        + "of its ROW; BOND by BOND: PERIOD by PERIOD flow() of 0 to 4, price() and duration() by 20000 on the first DAY of "
-        + "its ROW, worst() there of FACE; the codes of the signs of factor() of all years from 0 on; fault(); 1 if "
-        + "isSound(), otherwise 0.", x -> {
+    test(59, "A number d starts with 6904; then d becomes d * 31 + v, which wraps around as a 64-bit integer, for each "
+        + "v in this order: house() of 0 to 11; the codes of the signs of row(); how many BANK DAYS there are from 0 "
+        + "to 3000; LOAN by LOAN: all() of 0 to 5, rateOf(), PERIOD by PERIOD planned() of 0 to 5, owes() of 0 to 5 on "
+        + "the last DAY of its ROW; BOND by BOND: PERIOD by PERIOD flow() of 0 to 4, price() and duration() by 20000 "
+        + "on the first DAY of its ROW, worst() there of FACE; the codes of the signs of factor() of all years from 0 "
+        + "on; fault(); 1 if isSound(), otherwise 0.", x -> {
       due(some().digest(), whole(EdgesOfHouseTest::some, 4, 1000).longValue());
       due(full().digest(), whole(EdgesOfHouseTest::full, 24, 999999, 999998, 999997).longValue());
       Supplier<Daycounthouse> sunk = () -> {
@@ -349,8 +350,8 @@ public final class EdgesOfHouseTest extends Edges {
       x.bond(5, 0);
       due(x.duration(0, 0, 0) + " " + x.duration(0, 1, 0) + " " + x.split(2, 1, 2, true), "1000 666 1");
     });
-    test(46, "A FRACTION as a text: in lowest terms, its upper number, \"/\", its lower number (above 0), \"-\" ahead if it "
-        + "is below 0; 0 is \"0/1\".", x -> {
+    test(46, "A FRACTION as a text: in lowest terms, its upper number, \"/\", its lower number (above 0), \"-\" ahead "
+        + "if it is below 0; 0 is \"0/1\".", x -> {
       x.quote(0, 200);
       x.quote(0, 100);
       due(x.factor(1) + " " + x.forward(1) + " " + x.par(1) + " " + x.swap(0, 1), "2/1 -1/2 -1/2 -100/1");
@@ -358,7 +359,8 @@ public final class EdgesOfHouseTest extends Edges {
       Daycounthouse y = some();
       due(y.accrued(0, 0) + " " + y.share(0, 90, 0), "0/1 1/4");
     });
-    test(14, "Coins and rates are whole numbers; a rate or coupon of 1 is a ten-thousandth of the sum in a year.", x -> {
+    test(14, "Coins and rates are whole numbers; a rate or coupon of 1 is a ten-thousandth of the sum in a "
+        + "year.", x -> {
       due(x.simple(10000, 1, 0, 365, 1) + " " + x.grown(10000, 1, 1, 1, false), "1 10001");
       x.schedule(0, 366, 12, false, false, 0);
       x.loan(10000, 1, 0, 4);
@@ -383,17 +385,18 @@ public final class EdgesOfHouseTest extends Edges {
   /** Calls that throw on a full house, each with the exception that is due. */
   private static List<Object> throwing() {
     List<Object> all = new ArrayList<>();
-    add(all, ARGUMENT, x -> x.date(-1), x -> x.weekDay(36525), x -> x.isBank(-1), x -> x.roll(0, 5), x -> x.later(0, 1201, true),
-        x -> x.banks(1, 0), x -> x.round(4), x -> x.share(0, 1, 8), x -> x.simple(-1, 0, 0, 1, 0), x -> x.grown(0, 0, 61, 1, true),
-        x -> x.step(0, -2), x -> x.stepped(0, 1, 0, 0), x -> x.schedule(0, 0, 1, true, true, 0), x -> x.period(-1),
-        x -> x.holiday(0, 24), x -> x.early(0, 1, -1), x -> x.change(0, 1, -2), x -> x.planned(0, 1, 6), x -> x.all(0, 6),
-        x -> x.late(10000, 0), x -> x.late(5, 61), x -> x.order(6), x -> x.owes(0, 0, 6), x -> x.sink(0, 1, -1),
-        x -> x.call(0, 1, 0), x -> x.reset(0, 1, -2), x -> x.link(0, 1, 0), x -> x.ex(0, 61), x -> x.flow(0, 1, 5),
-        x -> x.accrued(0, 731), x -> x.price(0, 0, -1), x -> x.yieldOf(0, 0, 0), x -> x.worst(0, 0, 0),
-        x -> x.duration(0, 0, -1), x -> x.swap(51, 1), x -> x.split(-1, 0, 0, true), x -> x.house(12));
+    add(all, ARGUMENT, x -> x.date(-1), x -> x.weekDay(36525), x -> x.isBank(-1), x -> x.roll(0, 5),
+        x -> x.later(0, 1201, true), x -> x.banks(1, 0), x -> x.round(4), x -> x.share(0, 1, 8),
+        x -> x.simple(-1, 0, 0, 1, 0), x -> x.grown(0, 0, 61, 1, true), x -> x.step(0, -2), x -> x.stepped(0, 1, 0, 0),
+        x -> x.schedule(0, 0, 1, true, true, 0), x -> x.period(-1), x -> x.holiday(0, 24), x -> x.early(0, 1, -1),
+        x -> x.change(0, 1, -2), x -> x.planned(0, 1, 6), x -> x.all(0, 6), x -> x.late(10000, 0), x -> x.late(5, 61),
+        x -> x.order(6), x -> x.owes(0, 0, 6), x -> x.sink(0, 1, -1), x -> x.call(0, 1, 0), x -> x.reset(0, 1, -2),
+        x -> x.link(0, 1, 0), x -> x.ex(0, 61), x -> x.flow(0, 1, 5), x -> x.accrued(0, 731), x -> x.price(0, 0, -1),
+        x -> x.yieldOf(0, 0, 0), x -> x.worst(0, 0, 0), x -> x.duration(0, 0, -1), x -> x.swap(51, 1),
+        x -> x.split(-1, 0, 0, true), x -> x.house(12));
     add(all, INDEX, x -> x.rateOf(3), x -> x.factor(7), x -> x.forward(0), x -> x.par(0));
-    add(all, STATE, x -> x.feast(1, 1), x -> x.moving(0), x -> x.step(0, 0), x -> x.loan(1, 0, 0, 0), x -> x.pay(0, 5, 5),
-        x -> x.bond(1, 0), x -> x.quote(0, 100), x -> x.type(0), Daycounthouse::terms);
+    add(all, STATE, x -> x.feast(1, 1), x -> x.moving(0), x -> x.step(0, 0), x -> x.loan(1, 0, 0, 0),
+        x -> x.pay(0, 5, 5), x -> x.bond(1, 0), x -> x.quote(0, 100), x -> x.type(0), Daycounthouse::terms);
     return all;
   }
 
@@ -423,14 +426,15 @@ public final class EdgesOfHouseTest extends Edges {
     test(30, "If several exceptions apply, the one that is named first is thrown.", x -> {
       List<Object> all = new ArrayList<>();
       add(all, ARGUMENT, h -> h.feast(0, 32), h -> h.moving(61), h -> h.step(-1, 5), h -> h.step(0, 10000),
-          h -> h.loan(0, 0, 0, 0), h -> h.loan(1, 0, 0, 8), h -> h.pay(0, -1, 5), h -> h.pay(0, 5, 0), h -> h.bond(0, 0),
-          h -> h.bond(1, 10000), h -> h.quote(51, 1), h -> h.quote(0, 201), h -> h.type(17));
+          h -> h.loan(0, 0, 0, 0), h -> h.loan(1, 0, 0, 8), h -> h.pay(0, -1, 5), h -> h.pay(0, 5, 0),
+          h -> h.bond(0, 0), h -> h.bond(1, 10000), h -> h.quote(51, 1), h -> h.quote(0, 201), h -> h.type(17));
       add(all, INDEX, h -> h.holiday(3, 24), h -> h.early(3, 1, -1), h -> h.early(0, 25, -1), h -> h.change(-1, 1, -2),
-          h -> h.change(0, 0, -2), h -> h.planned(3, 1, 6), h -> h.planned(0, 25, 6), h -> h.all(3, 6), h -> h.pay(3, -1, 0),
-          h -> h.pay(-1, 5, 5), h -> h.owes(3, -1, 6), h -> h.sink(3, 1, -1), h -> h.sink(0, 0, -1), h -> h.call(3, 1, 0),
-          h -> h.call(0, 24, 0), h -> h.reset(3, 1, -2), h -> h.reset(0, 25, -2), h -> h.link(3, 1, 0), h -> h.link(0, 0, 0),
-          h -> h.ex(3, 61), h -> h.flow(3, 1, 5), h -> h.flow(0, 25, 5), h -> h.accrued(3, -1), h -> h.price(3, -1, -1),
-          h -> h.yieldOf(3, -1, 0), h -> h.worst(3, -1, 0), h -> h.duration(3, -1, -1), h -> h.swap(51, 0), h -> h.swap(-1, 7));
+          h -> h.change(0, 0, -2), h -> h.planned(3, 1, 6), h -> h.planned(0, 25, 6), h -> h.all(3, 6),
+          h -> h.pay(3, -1, 0), h -> h.pay(-1, 5, 5), h -> h.owes(3, -1, 6), h -> h.sink(3, 1, -1),
+          h -> h.sink(0, 0, -1), h -> h.call(3, 1, 0), h -> h.call(0, 24, 0), h -> h.reset(3, 1, -2),
+          h -> h.reset(0, 25, -2), h -> h.link(3, 1, 0), h -> h.link(0, 0, 0), h -> h.ex(3, 61), h -> h.flow(3, 1, 5),
+          h -> h.flow(0, 25, 5), h -> h.accrued(3, -1), h -> h.price(3, -1, -1), h -> h.yieldOf(3, -1, 0),
+          h -> h.worst(3, -1, 0), h -> h.duration(3, -1, -1), h -> h.swap(51, 0), h -> h.swap(-1, 7));
       for (int i = 0; i < all.size(); i += 2) {
         still(full(), all.get(i), callAt(all, i + 1));
       }

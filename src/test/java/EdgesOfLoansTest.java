@@ -128,8 +128,8 @@ public final class EdgesOfLoansTest extends Edges {
   }
 
   private static void earlySums() {
-    test(23, "Then REST is less by PART, and by EARLY: what was told for that PERIOD, but at most REST (in the last one "
-        + "nothing is left for it).", x -> {
+    test(23, "Then REST is less by PART, and by EARLY: what was told for that PERIOD, but at most REST (in the last "
+        + "one nothing is left for it).", x -> {
       Daycounthouse y = likeParts();
       y.early(0, 2, 1000);
       due(y.planned(0, 2, 3) + " " + y.planned(0, 2, 4), "1000 0");
@@ -179,8 +179,8 @@ public final class EdgesOfLoansTest extends Edges {
   }
 
   private static void changes() {
-    test(24, "A CHANGE tells another rate from a PERIOD on (the rate of a PERIOD is that told for the last PERIOD up to "
-        + "it).", x -> {
+    test(24, "A CHANGE tells another rate from a PERIOD on (the rate of a PERIOD is that told for the last PERIOD up "
+        + "to it).", x -> {
       Daycounthouse y = likeParts();
       y.change(0, 12, 0);
       y.change(0, 2, 9999);
@@ -293,9 +293,9 @@ public final class EdgesOfLoansTest extends Edges {
       due(line(months(24, 999999, 0, 0), 0, 2).startsWith("41667 41667 "), true);
       due(months(1, 999999, 9999, 0).planned(0, 1, 2), 999999);
     });
-    test(25, "LIKE payment and part are made in the first PERIOD behind the HOLIDAY, and made anew in each later PERIOD "
-        + "whose rate is not that of the one ahead, or that stands right behind one with an EARLY sum (as told, above "
-        + "0)", x -> {
+    test(25, "LIKE payment and part are made in the first PERIOD behind the HOLIDAY, and made anew in each later "
+        + "PERIOD whose rate is not that of the one ahead, or that stands right behind one with an EARLY sum (as told, "
+        + "above 0)", x -> {
       // Twelve parts of 1006 are 84 at first; of 166 behind ten of them two would be 83.
       Daycounthouse y = months(12, 1006, 1200, 1);
       due(line(y, 0, 2), "84 84 84 84 84 84 84 84 84 84 84 82");
@@ -363,8 +363,8 @@ public final class EdgesOfLoansTest extends Edges {
   }
 
   private static void rates() {
-    test(27, "RATE of a LOAN: the greatest n of 0 to 999999 by which the sum, over its PERIODS k, of (INTEREST, PART and "
-        + "EARLY of k) / (1 + n / 1000000)^k is AMOUNT or more.", x -> {
+    test(27, "RATE of a LOAN: the greatest n of 0 to 999999 by which the sum, over its PERIODS k, of (INTEREST, PART "
+        + "and EARLY of k) / (1 + n / 1000000)^k is AMOUNT or more.", x -> {
       due(months(24, 999999, 0, 0).rateOf(0), 0);
       due(months(1, 1, 0, 0).rateOf(0), 0);
       // In a PERIOD of 24 months: 2 coins for 1, 5 for 3, 1999897 for 999999.
@@ -441,8 +441,8 @@ public final class EdgesOfLoansTest extends Edges {
       x.loan(100, 0, 0, 0);
       due(x.owes(1, LAST_DAY - 1, 5) + " " + x.owes(1, LAST_DAY, 5), "0 25");
     });
-    test(28, "the FEE is due, if what went to interest and parts on the days ahead is less than all of both that was due "
-        + "up to the end of that PERIOD.", x -> {
+    test(28, "the FEE is due, if what went to interest and parts on the days ahead is less than all of both that was "
+        + "due up to the end of that PERIOD.", x -> {
       // 112 are due on day 31, and 223 up to day 60.
       Daycounthouse y = withFee(25, 5);
       y.pay(0, 36, 111);
@@ -554,7 +554,8 @@ public final class EdgesOfLoansTest extends Edges {
       due(owed(y, 4) + ", " + owed(y, 5), "0 0 0 0 0 0, 0 0 0 999999 999999 0");
       due(owed(y, 31) + ", " + owed(y, LAST_DAY), "0 0 0 999887 999999 0, 0 0 0 998721 999999 0");
     });
-    test(30, "Something is paid on a day of a LOAN; what was paid on that day stays, and this comes to it (CHANGE).", x -> {
+    test(30, "Something is paid on a day of a LOAN; what was paid on that day stays, and this comes to it "
+        + "(CHANGE).", x -> {
       change(EdgesOfLoansTest::likeParts, 999999, h -> h.pay(0, 0, 999999));
       change(EdgesOfLoansTest::likeParts, 1, h -> h.pay(0, LAST_DAY, 1));
       Daycounthouse y = likeParts();
@@ -578,8 +579,8 @@ public final class EdgesOfLoansTest extends Edges {
       numbers(EdgesOfLoansTest::threeLoans, 0, 1, 2, 1, (h, loan) -> h.pay(loan, 0, 1));
       numbers(EdgesOfLoansTest::threeLoans, 0, ARGUMENT, 2, ARGUMENT, (h, loan) -> h.pay(loan, -1, 0));
     });
-    test(30, "Throws `IllegalArgumentException` if day is no DAY, or ahead of the first one of its ROW, or sum is not 1 to "
-        + "999999", x -> {
+    test(30, "Throws `IllegalArgumentException` if day is no DAY, or ahead of the first one of its ROW, or sum is not "
+        + "1 to 999999", x -> {
       bounds(EdgesOfLoansTest::likeParts, 0, 5, LAST_DAY, 5, (h, day) -> h.pay(0, day, 5));
       bounds(EdgesOfLoansTest::likeParts, 1, 1, 999999, 999999, (h, sum) -> h.pay(0, 0, sum));
       bounds(EdgesOfLoansTest::twentyDays, 10, 6, LAST_DAY, STATE, (h, day) -> h.pay(0, day, 5));
@@ -588,8 +589,8 @@ public final class EdgesOfLoansTest extends Edges {
       bounds(withOtherRow(EdgesOfLoansTest::twentyDays), 10, 6, LAST_DAY, STATE, (h, day) -> h.pay(0, day, 5));
       argument(twentyDays(), h -> h.pay(0, 0, 5));
     });
-    test(30, "Throws `IllegalStateException` if there are 20 days on which something was paid on that LOAN, and this is "
-        + "none of them", x -> {
+    test(30, "Throws `IllegalStateException` if there are 20 days on which something was paid on that LOAN, and this "
+        + "is none of them", x -> {
       nothing(EdgesOfLoansTest::twentyDays, STATE, h -> h.pay(0, 30, 5));
       nothing(EdgesOfLoansTest::twentyDays, STATE, h -> h.pay(0, LAST_DAY, 999999));
       Daycounthouse y = twentyDays();
@@ -607,8 +608,8 @@ public final class EdgesOfLoansTest extends Edges {
   }
 
   private static void ledgers() {
-    test(31, "LEDGER of a LOAN, day by day from its first DAY on: at the end of a PERIOD its INTEREST and PART are due.",
-        x -> {
+    test(31, "LEDGER of a LOAN, day by day from its first DAY on: at the end of a PERIOD its INTEREST and PART are "
+        + "due.", x -> {
       Daycounthouse y = likeParts();
       due(owed(y, 0) + ", " + owed(y, 30) + ", " + owed(y, 31), "0 0 0 0 0 0, 0 0 0 0 0 0, 0 12 100 0 0 0");
       due(owed(y, 365) + ", " + owed(y, 366), "0 77 1100 0 0 0, 0 78 1200 0 0 0");

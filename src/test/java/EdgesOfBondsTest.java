@@ -90,6 +90,23 @@ public final class EdgesOfBondsTest extends Edges {
       y.undo();
       due(y.bond(5, 5), 2);
     });
+    test(32, "each with a FACE, a coupon", x -> {
+      // Nothing of a BOND that was taken back is left in the next one.
+      Daycounthouse y = par();
+      y.sink(0, 1, 300);
+      y.sink(0, 4, 7);
+      y.call(0, 3, 50);
+      y.reset(0, 4, 0);
+      y.link(0, 4, 999);
+      y.ex(0, 60);
+      while (y.house(4) > 0) {
+        y.undo();
+      }
+      due(y.bond(1000, 500), 0);
+      due(y.digest(), par().digest());
+      due(y.sink(0, 1, 0) + " " + y.sink(0, 4, 0) + " " + y.call(0, 3, NONE) + " " + y.reset(0, 4, NONE), "0 0 -1 -1");
+      due(y.link(0, 4, NONE) + " " + y.ex(0, 0), "-1 0");
+    });
     test(32, "Throws `IllegalArgumentException` if face is not 1 to 999999, or coupon not 0 to 9999", x -> {
       bounds(EdgesOfBondsTest::halfYears, 1, 0, 999999, 0, (h, face) -> h.bond(face, 0));
       bounds(EdgesOfBondsTest::halfYears, 0, 0, 9999, 0, (h, coupon) -> h.bond(1, coupon));
@@ -422,6 +439,12 @@ public final class EdgesOfBondsTest extends Edges {
     return value[0].shiftLeft(1).add(value[1]).divide(value[1].shiftLeft(1)).intValueExact();
   }
 
+  private static void half(int face, int mode, String dues) {
+    Daycounthouse x = single(366, face, 0);
+    x.round(mode);
+    due(face + ": " + x.price(0, 0, 200000), face + ": " + dues.split(" ")[mode]);
+  }
+
   private static void prices() {
     test(40, "PRICE by the yield n (millionths in a PERIOD), with y as n / 1000000: the sum of FLOWS of the PERIODS j "
         + "from k on (that of k without the coupon sum, if EX), each by (1 + w * y) * (1 + y)^(j - k).", x -> {
@@ -455,6 +478,10 @@ public final class EdgesOfBondsTest extends Edges {
         due(y.price(0, 0, 199999) + " " + y.price(0, 0, 200000) + " " + y.price(0, 0, 200001), dues[mode]);
         due(y.price(0, 0, 0), 3);
         due(y.price(0, 0, 500000), 2);
+        // 9 by 1.2 is 7.5, 999999 by 1.2 is 833332.5, and 999993 by 1.2 is 833327.5.
+        half(9, mode, "7 8 8 8");
+        half(999999, mode, "833332 833333 833332 833333");
+        half(999993, mode, "833327 833328 833328 833328");
       }
     });
     test(40, "Throws `IndexOutOfBoundsException` if there is no such BOND", x -> {

@@ -32,6 +32,8 @@ public final class EdgesOfCountsTest extends Edges {
       due(modes(10000, 1), "1 1 1 1");
       due(modes(3, 5000), "1 2 2 2");
       due(modes(5, 5000), "2 3 2 3");
+      due(modes(7, 5000), "3 4 4 4");
+      due(modes(9, 5000), "4 5 4 5");
       due(modes(999999, 5000), "499999 500000 500000 500000");
       due(modes(999997, 5000), "499998 499999 499998 499999");
       due(modes(999999, 9999), "999899 999899 999899 999900");
@@ -155,6 +157,8 @@ public final class EdgesOfCountsTest extends Edges {
       share(x, 14, 44, 7, "1/12");
       share(x, 14, 45, 7, "1/12");
       share(x, 59, 90, 7, "4/45");
+      // Back to March 29, not to the end of March.
+      share(x, 59, 118, 7, "1/6");
       share(x, x.day(2001, 1, 31), x.day(2001, 2, 27), 7, "3/40");
       share(x, x.day(2001, 1, 31), x.day(2001, 2, 28), 7, "1/12");
       // From December 1 and December 2 on, a month more is no DAY.
@@ -214,6 +218,15 @@ public final class EdgesOfCountsTest extends Edges {
       due(x.grown(1, 5000, 2, 1, true) + " " + x.grown(1, 5000, 2, 1, false), "3 2");
       due(x.grown(1, 5000, 3, 1, true) + " " + x.grown(1, 5000, 3, 1, false), "5 3");
       due(x.grown(0, 9999, 60, 1, true) + " " + x.grown(0, 9999, 60, 1, false), "0 0");
+      // Halves: 4.5, 7.5 and 1499998.5.
+      String[] halves = {"4 7 1499998", "5 8 1499999", "4 8 1499998", "5 8 1499999"};
+      for (int mode = 0; mode <= 3; mode++) {
+        Daycounthouse y = inMode(mode);
+        for (boolean isEach : new boolean[] {false, true}) {
+          String got = y.grown(3, 5000, 1, 1, isEach) + " " + y.grown(5, 5000, 1, 1, isEach);
+          due(got + " " + y.grown(999999, 5000, 1, 1, isEach), halves[mode]);
+        }
+      }
       due(x.grown(999999, 0, 60, 1, true) + " " + x.grown(999999, 0, 60, 1, false), "999999 999999");
       due(inMode(3).grown(999999, 9999, 0, 365, false), "999999");
       due(inMode(3).grown(1, 1, 1, 365, false) + " " + inMode(0).grown(1, 9999, 1, 1, false), "2 1");
@@ -275,6 +288,13 @@ public final class EdgesOfCountsTest extends Edges {
       due(x.house(1) + " " + x.stepped(360000, 10, 11, 0), "1 30");
       due(x.step(10, NONE), 300);
       due(x.house(1) + " " + x.stepped(360000, 10, 11, 0), "0 0");
+      Daycounthouse y = eightSteps();
+      y.step(70, NONE);
+      y.step(5, 300);
+      due(y.stepped(360000, 70, 80, 0) + " " + y.stepped(360000, 5, 6, 0), "106 30");
+      y.undo();
+      y.undo();
+      due(y.stepped(360000, 70, 80, 0) + " " + y.stepped(360000, 0, 10, 0), "107 100");
       change(EdgesOfCountsTest::eightSteps, 105, h -> h.step(50, 105));
       change(EdgesOfCountsTest::eightSteps, 105, h -> h.step(50, 9999));
       change(EdgesOfCountsTest::eightSteps, 105, h -> h.step(50, NONE));

@@ -82,6 +82,15 @@ public final class EdgesOfCurveTest extends Edges {
       x.unquote();
       due(x.factor(1), "1/2");
       index(x, h -> h.factor(2));
+      // Another sixth bond instead, and both taken back.
+      Daycounthouse y = full();
+      y.unquote();
+      y.quote(0, 50);
+      due(y.factor(6) + " " + y.forward(6), "1/2 2315899/4084101");
+      y.undo();
+      y.undo();
+      due(y.factor(6) + " " + y.forward(6) + " " + y.par(6), "64000000/85766121 1/20 1/20");
+      due(y.swap(5, 6) + " " + y.isSound(), "0/1 true");
     });
     test(45, "Returns how many are left.", x -> {
       Daycounthouse y = full();
@@ -410,6 +419,13 @@ public final class EdgesOfCurveTest extends Edges {
         nothing(ready(0, 3, text), STATE, Daycounthouse::terms);
       }
       due(ready(3, 0, "B5,5%").get().terms() + " " + ready(0, 3, "L5,5%p").get().terms(), "0 0");
+      // An empty SLIP has no first SIGN, whatever stood there ahead.
+      for (String text : new String[] {"L5,5%a", "B5,5%"}) {
+        Daycounthouse z = ready(3, 3, text).get();
+        state(z, Daycounthouse::terms);
+        z.wipe();
+        still(z, REFUSED, Daycounthouse::terms);
+      }
       Daycounthouse y = ready(2, 0, "L5,5%p").get();
       due(y.terms(), 2);
       state(y, Daycounthouse::terms);

@@ -32,6 +32,9 @@ public final class EdgesOfDaysTest extends Edges {
       for (int month = 1; month <= 12; month++) {
         due(x.day(2001, month, 0), NONE);
         due(x.day(2001, month, LENGTHS[month - 1] + 1), NONE);
+        for (int year : new int[] {1996, 1999, 2100, 2104, 0, 2000 + 65536}) {
+          due(x.day(year, month, 1) + " " + x.day(year, month, 28), "-1 -1");
+        }
       }
       due(x.day(2000, 2, 30), NONE);
       due(x.day(2050, 0, 1), NONE);
@@ -177,6 +180,16 @@ public final class EdgesOfDaysTest extends Edges {
         z.feast(2, 31);
         return z;
       }, 0, Daycounthouse::unfeast);
+    });
+    test(7, "Drops the last FEAST", x -> {
+      // Another sixth one instead, and both taken back.
+      Daycounthouse y = sixFeasts();
+      y.unfeast();
+      y.feast(1, 3);
+      due(y.isBank(LAST_DAY) + " " + y.isBank(2), "true false");
+      y.undo();
+      y.undo();
+      due(y.isBank(LAST_DAY) + " " + y.isBank(2), "false true");
     });
     test(7, "Returns how many are left.", x -> {
       Daycounthouse y = sixFeasts();

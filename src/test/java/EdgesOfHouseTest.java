@@ -68,6 +68,13 @@ public final class EdgesOfHouseTest extends Edges {
       x -> x.split(5, 5, 5, true), Daycounthouse::fault, x -> x.house(10), Daycounthouse::isSound,
       Daycounthouse::digest);
 
+  private static void comesBack(Daycounthouse x, Function<Daycounthouse, Object> call,
+      Function<Daycounthouse, Object> again, Object want) {
+    call.apply(x);
+    x.undo();
+    due(again.apply(x), want);
+  }
+
   private static void undone() {
     test(55, "UNDO: the last 10 of the calls that are said to CHANGE (also if nothing is other then) can be taken "
         + "back, one by one.", x -> {
@@ -112,6 +119,26 @@ public final class EdgesOfHouseTest extends Edges {
       x.late(77, 0);
       x.undo();
       due(x.house(7), 9);
+    });
+    test(55, "Takes the last CHANGE back", x -> {
+      // What is told of the last PERIOD, the last LOAN and the last BOND comes back too.
+      Daycounthouse y = full();
+      for (int i = 0; i < 3; i++) {
+        int one = i;
+        comesBack(y, h -> h.holiday(one, 23), h -> h.holiday(one, 0), 0);
+        comesBack(y, h -> h.early(one, 24, 7), h -> h.early(one, 24, 0), 0);
+        comesBack(y, h -> h.change(one, 24, 7), h -> h.change(one, 24, NONE), NONE);
+        comesBack(y, h -> h.sink(one, 24, 7), h -> h.sink(one, 24, 0), 0);
+        comesBack(y, h -> h.call(one, 23, 70), h -> h.call(one, 23, NONE), NONE);
+        comesBack(y, h -> h.reset(one, 24, 7), h -> h.reset(one, 24, NONE), NONE);
+        comesBack(y, h -> h.link(one, 24, 7), h -> h.link(one, 24, NONE), NONE);
+        comesBack(y, h -> h.ex(one, 7), h -> h.ex(one, 0), 0);
+      }
+      comesBack(y, h -> h.pay(0, 190, 1), h -> h.pay(0, 190, 2), 1000001);
+      comesBack(y, h -> h.step(8, 7), h -> h.step(8, 8), 8);
+      comesBack(y, h -> h.late(7, 7), h -> h.late(0, 0), 0);
+      comesBack(y, h -> h.order(3), h -> h.order(0), 0);
+      comesBack(y, h -> h.round(3), h -> h.round(1), 1);
     });
     test(55, "Returns how many can be taken back then.", x -> {
       keepTen(x);
@@ -305,6 +332,25 @@ public final class EdgesOfHouseTest extends Edges {
       };
       due(sunk.get().worst(0, 0, 1000), NONE);
       due(sunk.get().digest(), whole(sunk, 4, 1000).longValue());
+      Supplier<Daycounthouse> called = () -> {
+        Daycounthouse y = some();
+        y.call(0, 1, 100);
+        y.reset(0, 2, 900);
+        return y;
+      };
+      due(called.get().worst(0, 0, 1000) < called.get().yieldOf(0, 0, 1000), true);
+      due(called.get().digest(), whole(called, 4, 1000).longValue());
+      for (int coupon = 0; coupon < 3000; coupon += 100) {
+        // PERIODS so long that price() and duration() tell a millionth more or less.
+        int one = coupon;
+        Supplier<Daycounthouse> maker = () -> {
+          Daycounthouse y = new Daycounthouse();
+          y.schedule(0, 17532, 24, false, false, 0);
+          y.bond(999999, one);
+          return y;
+        };
+        due(maker.get().digest(), whole(maker, 24, 999999).longValue());
+      }
     });
     test(59, "which wraps around as a 64-bit integer", x -> {
       // Also that of a new house has more than 64 bits; among these some have the highest one, and some have not.

@@ -74,6 +74,23 @@ public final class EdgesOfLoansTest extends Edges {
       y.undo();
       due(y.loan(5, 5, 0, 0), 2);
     });
+    test(21, "each with an AMOUNT, a rate, a kind, a count", x -> {
+      // Nothing of a LOAN that was taken back is left in the next one.
+      Daycounthouse y = likeParts();
+      y.holiday(0, 5);
+      y.early(0, 1, 300);
+      y.early(0, 12, 7);
+      y.change(0, 1, 9999);
+      y.change(0, 12, 0);
+      y.pay(0, 50, 70);
+      while (y.house(3) > 0) {
+        y.undo();
+      }
+      due(y.loan(1200, 1200, 1, 4), 0);
+      due(look(y).substring(0, 10), look(likeParts()).substring(0, 10));
+      due(y.digest(), likeParts().digest());
+      due(y.holiday(0, 0) + " " + y.early(0, 12, 0) + " " + y.change(0, 12, NONE) + " " + y.pay(0, 50, 1), "0 0 -1 1");
+    });
     test(21, "Throws `IllegalArgumentException` if amount is not 1 to 999999, rate not 0 to 9999, kind not 0 to 2, or "
         + "count not 0 to 7", x -> {
       bounds(EdgesOfLoansTest::year, 1, 0, 999999, 0, (h, amount) -> h.loan(amount, 0, 0, 0));
@@ -308,6 +325,10 @@ public final class EdgesOfLoansTest extends Edges {
       due(y.planned(0, 11, 2), 83);
       y.early(0, 10, 0);
       due(y.planned(0, 11, 2), 84);
+      // In the PERIOD behind that one the rate is the same again: 250 by 3 are 83, of 167 by 2 it would be 84.
+      y.change(0, 10, 1201);
+      due(y.planned(0, 10, 2) + " " + y.planned(0, 11, 2) + " " + y.planned(0, 12, 2), "83 83 84");
+      y.change(0, 10, NONE);
       // As told, also where nothing of it counts: REST is 0 already.
       y.early(0, 9, 999999);
       y.early(0, 10, 5);
@@ -319,6 +340,22 @@ public final class EdgesOfLoansTest extends Edges {
       y.early(0, 3, 6);
       y.change(0, 4, 7);
       due(y.planned(0, 10, 2) + " " + y.planned(0, 11, 2) + " " + y.planned(0, 12, 2), "0 500 500");
+    });
+    test(25, "or R / N, if r is 0; ROUNDED.", x -> {
+      // Two years at 10 per 100: 1210 of 2100 are whole, 302.5 of 525 and 907.5 of 1575 are halves.
+      String[] dues = {"1210 302 907", "1210 303 908", "1210 302 908", "1210 303 908"};
+      x.schedule(0, 731, 12, false, false, 0);
+      x.loan(2100, 1000, 0, 7);
+      x.loan(525, 1000, 0, 7);
+      x.loan(1575, 1000, 0, 7);
+      for (int mode = 0; mode <= 3; mode++) {
+        x.round(mode);
+        StringBuilder text = new StringBuilder();
+        for (int loan = 0; loan < 3; loan++) {
+          text.append(loan > 0 ? " " : "").append(x.planned(loan, 1, 1) + x.planned(loan, 1, 2));
+        }
+        due(text.toString(), dues[mode]);
+      }
     });
     test(25, "with REST R, and N PERIODS from that one on: part R / N", x -> {
       due(line(months(24, 24, 0, 1), 0, 2), "1 1 1 1 1 1 1 1 1 1 1 1 1 1 1 1 1 1 1 1 1 1 1 1");
@@ -341,6 +378,10 @@ public final class EdgesOfLoansTest extends Edges {
         text.append(y.all(1, what)).append(' ').append(y.all(2, what)).append(' ');
       }
       due(text.toString(), "12 144 1200 1200 1212 1344 112 1212 1 12 12 12 ");
+      // All is paid EARLY: no INTEREST, no PART.
+      Daycounthouse z = months(2, 1, 0, 2);
+      z.early(0, 1, 1);
+      due(z.all(0, 0) + " " + z.all(0, 1) + " " + z.all(0, 2) + " " + z.all(0, 3) + " " + z.all(0, 4), "0 1 1 0 1");
       x.schedule(0, 17532, 24, false, false, 0);
       x.loan(999999, 9999, 2, 0);
       due(x.all(0, 5) + " " + x.all(0, 4) + " " + x.all(0, 1), "24 24 999999");
@@ -360,6 +401,19 @@ public final class EdgesOfLoansTest extends Edges {
     });
     test(26, "Throws `IllegalArgumentException` if what is not 0 to 5", x ->
         bounds(EdgesOfLoansTest::likeParts, 0, 78, 5, 12, (h, what) -> h.all(0, what)));
+  }
+
+  /** By the library's great numbers: whether what the PERIODS bring is worth AMOUNT or more. */
+  private static boolean isReached(Daycounthouse x, int n) {
+    BigInteger million = BigInteger.valueOf(1000000);
+    BigInteger growth = million.add(BigInteger.valueOf(n));
+    BigInteger sum = BigInteger.ZERO;
+    int last = x.all(0, 5);
+    for (int k = 1; k <= last; k++) {
+      BigInteger flow = BigInteger.valueOf(x.planned(0, k, 1) + x.planned(0, k, 2) + x.planned(0, k, 3));
+      sum = sum.add(flow.multiply(million.pow(k)).multiply(growth.pow(last - k)));
+    }
+    return sum.compareTo(growth.pow(last).multiply(BigInteger.valueOf(x.all(0, 1)))) >= 0;
   }
 
   private static void rates() {
@@ -397,6 +451,17 @@ public final class EdgesOfLoansTest extends Edges {
       due(z.planned(0, 24, 1) + " " + z.rateOf(0), "0 9999");
       z.early(0, 5, 100000);
       due(z.rateOf(0), 10000);
+    });
+    test(27, "is AMOUNT or more.", x -> {
+      x.schedule(0, 17532, 24, false, false, 0);
+      for (int kind = 0; kind < 3; kind++) {
+        for (int rate : new int[] {1, 2500, 4999, 9999}) {
+          x.loan(999999, rate, kind, 2);
+          int n = x.rateOf(0);
+          due(isReached(x, n) + " " + (n == 999999 || !isReached(x, n + 1)), "true true");
+          x.undo();
+        }
+      }
     });
     test(27, "Throws `IndexOutOfBoundsException` if there is no such LOAN", x -> {
       noNumber(Daycounthouse::new, Daycounthouse::rateOf);
@@ -514,7 +579,7 @@ public final class EdgesOfLoansTest extends Edges {
     });
     test(29, "in the ORDER of the house: 0 fees, interest, parts; 1 fees, parts, interest; 2 interest, fees, parts; 3 "
         + "interest, parts, fees; 4 parts, fees, interest; 5 parts, interest, fees.", x -> {
-      // Owed are 25, 12 and 100, when 30 and then 90 are paid.
+      // Owed are 25, 12 and 100, when 30 and then 90 are paid, and then more than what is left.
       String[] first = {"0 7 100", "0 12 95", "7 0 100", "25 0 82", "25 12 70", "25 12 70"};
       String[] then = {"0 0 17", "0 12 5", "0 0 17", "17 0 0", "5 12 0", "17 0 0"};
       Daycounthouse y = withFee(25, 0);
@@ -524,6 +589,11 @@ public final class EdgesOfLoansTest extends Edges {
         y.order(order);
         due(owed(y, 40), first[order] + " 0 30 25");
         due(owed(y, 50), then[order] + " 0 120 25");
+      }
+      y.pay(0, 55, 20);
+      for (int order = 0; order <= 5; order++) {
+        y.order(order);
+        due(owed(y, 55), "0 0 0 3 140 25");
       }
     });
     test(29, "Tells the ORDER (CHANGE).", x -> {
@@ -626,6 +696,18 @@ public final class EdgesOfLoansTest extends Edges {
       due(owed(y, 60), "0 0 0 0 248 25");
       y.pay(0, 60, 1);
       due(owed(y, 60), "0 0 0 1 249 25");
+    });
+    test(31, "LEDGER of a LOAN, day by day from its first DAY on", x -> {
+      // As many days with something on them as there can be: 24 ends, 24 FEES, 20 days on which a coin is paid.
+      Daycounthouse y = months(24, 2400, 0, 1);
+      y.late(25, 3);
+      for (int day = 0; day < 19; day++) {
+        y.pay(0, day, 1);
+      }
+      y.pay(0, LAST_DAY, 1);
+      due(owed(y, 18) + ", " + owed(y, 31), "0 0 0 19 19 0, 0 0 81 0 19 0");
+      due(owed(y, 734) + ", " + owed(y, 735), "575 0 2381 0 19 575, 600 0 2381 0 19 600");
+      due(owed(y, LAST_DAY - 1) + ", " + owed(y, LAST_DAY), "600 0 2381 0 19 600, 599 0 2381 0 20 600");
     });
     test(31, "Returns that of its LEDGER (0 ahead of its first DAY).", x -> {
       x.schedule(100, 130, 1, false, false, 0);

@@ -361,6 +361,15 @@ public final class EdgesOfBondsTest extends Edges {
     test(38, "Returns that.", x -> {
       due(line(par(), 0) + ", " + line(par(), 4), "182 366 547 731, 1000 1000 1000 0");
     });
+    test(38, "0 the DAY of its end, 1 coupon sum, 2 what is paid back, 3 FLOW, 4 REST behind it", x -> {
+      Daycounthouse y = par();
+      y.sink(0, 1, 1000);
+      y.link(0, 1, 999);
+      String[] dues = {"182 731", "250 0", "9990 0", "10240 0", "0 0"};
+      for (int what = 0; what <= 4; what++) {
+        due(y.flow(0, 1, what) + " " + y.flow(0, 4, what), dues[what]);
+      }
+    });
     test(38, "Throws `IndexOutOfBoundsException` if there is no such BOND or PERIOD", x -> {
       noNumber(EdgesOfBondsTest::halfYears, (h, bond) -> h.flow(bond, 1, 0));
       numbers(EdgesOfBondsTest::threeBonds, 0, 182, 2, 182, (h, bond) -> h.flow(bond, 1, 0));
@@ -389,6 +398,16 @@ public final class EdgesOfBondsTest extends Edges {
     for (int day : new int[] {0, 99, 200, LAST_DAY}) {
       argument(late.get(), x -> call.on(x, day));
     }
+    Supplier<Daycounthouse> last = () -> {
+      Daycounthouse x = new Daycounthouse();
+      x.schedule(LAST_DAY - 1, LAST_DAY, 24, false, false, 0);
+      x.bond(1000, 0);
+      return x;
+    };
+    for (int day : new int[] {LAST_DAY - 2, LAST_DAY, LAST_DAY + 1}) {
+      argument(last.get(), x -> call.on(x, day));
+    }
+    due(answer(last.get(), x -> call.on(x, LAST_DAY - 1)) instanceof Class, false);
     due(answer(late.get(), x -> call.on(x, 100)) instanceof Class, false);
     due(answer(late.get(), x -> call.on(x, 199)) instanceof Class, false);
   }

@@ -180,6 +180,19 @@ public final class EdgesOfHouseTest extends Edges {
         due(x.house(what) + " " + y.house(what), least[what] + " " + most[what]);
       }
     });
+    test(56, "0 FEASTS, 1 STEPS, 2 PERIODS of the ROW (0 without), 3 LOANS, 4 BONDS, 5 bonds of the CURVE, 6 MODE, 7 "
+        + "FEE, 8 GRACE, 9 ORDER, 10 how many CHANGES can be taken back, 11 how often one knocked", x -> {
+      int[] dues = {1, 1, 4, 1, 1, 1, 1, 25, 5, 0, 9, 0};
+      for (int what = 0; what <= 11; what++) {
+        due(some().house(what), dues[what]);
+      }
+      x.schedule(0, 731, 1, false, false, 0);
+      due(x.house(2), 24);
+      x.schedule(0, 732, 1, false, false, 0);
+      due(x.house(2) + " " + x.house(10), "24 1");
+      x.undo();
+      due(x.house(2), 0);
+    });
     test(56, "Throws `IllegalArgumentException` if what is not 0 to 11", x -> {
       bounds(Daycounthouse::new, 0, 0, 11, 0, Daycounthouse::house);
       bounds(EdgesOfHouseTest::full, 0, 6, 11, 0, Daycounthouse::house);

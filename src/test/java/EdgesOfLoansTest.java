@@ -281,6 +281,18 @@ public final class EdgesOfLoansTest extends Edges {
       numbers(EdgesOfLoansTest::likeParts, 1, ARGUMENT, 12, ARGUMENT, (h, k) -> h.planned(0, k, 6));
       index(likeParts(), h -> h.planned(-1, 1, -1));
     });
+    test(25, "0 the DAY of its end, 1 INTEREST, 2 PART, 3 EARLY that counts, 4 REST behind all of these, 5 its "
+        + "rate", x -> {
+      Daycounthouse y = likeParts();
+      y.early(0, 11, 999999);
+      String[] first = {"31", "12", "100", "0", "1100", "1200"};
+      String[] ahead = {"335", "2", "100", "100", "0", "1200"};
+      String[] last = {"366", "0", "0", "0", "0", "1200"};
+      for (int what = 0; what <= 5; what++) {
+        due(y.planned(0, 1, what) + " " + y.planned(0, 11, what) + " " + y.planned(0, 12, what),
+            first[what] + " " + ahead[what] + " " + last[what]);
+      }
+    });
     test(25, "Throws `IllegalArgumentException` if what is not 0 to 5", x ->
         bounds(EdgesOfLoansTest::likeParts, 0, 31, 5, 1200, (h, what) -> h.planned(0, 1, what)));
   }
@@ -392,6 +404,19 @@ public final class EdgesOfLoansTest extends Edges {
       due(x.all(0, 0), interest);
       due(x.all(0, 2), interest + 999999);
       due(x.all(0, 3), x.planned(0, 24, 1) + 999999);
+    });
+    test(26, "3 the greatest of INTEREST and PART together in a PERIOD, 4 how many PERIODS have a REST above 0 ahead "
+        + "of them", x -> {
+      // EARLY sums are no part of the greatest; all EARLY in the first, the last but one, and the last PERIOD.
+      int[][] dues = {{1, 112, 1}, {11, 112, 11}, {12, 112, 12}};
+      for (int[] due : dues) {
+        Daycounthouse y = likeParts();
+        y.early(0, due[0], 999999);
+        due(y.all(0, 3) + " " + y.all(0, 4), due[1] + " " + due[2]);
+      }
+      Daycounthouse z = months(24, 1, 0, 2);
+      due(z.all(0, 3) + " " + z.all(0, 4) + " " + z.all(0, 5), "1 24 24");
+      due(months(1, 1, 0, 2).all(0, 4), 1);
     });
     test(26, "Throws `IndexOutOfBoundsException` if there is no such LOAN", x -> {
       noNumber(EdgesOfLoansTest::year, (h, loan) -> h.all(loan, 5));
@@ -716,6 +741,14 @@ public final class EdgesOfLoansTest extends Edges {
       due(owed(x, 0) + ", " + owed(x, 99), "0 0 0 0 0 0, 0 0 0 0 0 0");
       due(owed(x, 100) + ", " + owed(x, 129), "0 0 0 7 7 0, 0 0 0 7 7 0");
       due(owed(x, 130), "0 0 93 0 7 0");
+    });
+    test(31, "0 fees, 1 interest, 2 parts that are owed at the end of that day, 3 PURSE, 4 all that was paid up to it, "
+        + "5 all FEES that were due up to it", x -> {
+      Daycounthouse y = withFee(25, 0);
+      y.pay(0, 31, 12);
+      y.pay(0, 32, 130);
+      due(owed(y, 30) + ", " + owed(y, 31), "0 0 0 0 0 0, 0 0 100 0 12 0");
+      due(owed(y, 32) + ", " + owed(y, 33), "0 0 0 5 142 25, 0 0 0 5 142 25");
     });
     test(31, "Throws `IndexOutOfBoundsException` if there is no such LOAN", x -> {
       noNumber(EdgesOfLoansTest::year, (h, loan) -> h.owes(loan, 0, 0));

@@ -430,6 +430,12 @@ public final class EdgesOfBondsTest extends Edges {
       Daycounthouse z = single(10, 5, 0);
       z.ex(0, 60);
       due(z.accrued(0, 3), "0/1");
+      // A coin, all of it, by ten days.
+      Daycounthouse v = single(10, 1, 9999);
+      due(v.accrued(0, 0) + " " + v.accrued(0, 1) + " " + v.accrued(0, 5) + " " + v.accrued(0, 9), "0/1 1/10 1/2 9/10");
+      v.ex(0, 60);
+      due(v.accrued(0, 0) + " " + v.accrued(0, 1) + " " + v.accrued(0, 5) + " " + v.accrued(0, 9),
+          "-1/1 -9/10 -1/2 -1/10");
     });
     test(39, "Returns ACCRUED, as a FRACTION.", x -> due(par().accrued(0, 91), "25/2"));
     test(39, "Throws `IndexOutOfBoundsException` if there is no such BOND", x -> {
@@ -682,6 +688,36 @@ public final class EdgesOfBondsTest extends Edges {
     });
   }
 
+  private static void moments() {
+    test(32, "and the ROW of the moment, with n PERIODS.", x -> {
+      // Neither the DAYS nor the MONTHS of a later ROW, nor a FEAST on one of the DAYS, touch what was told by then.
+      x.schedule(0, 731, 6, false, false, 1);
+      x.bond(1000, 500);
+      String before = line(x, 0) + ", " + line(x, 1) + ", " + x.accrued(0, 100) + ", " + x.price(0, 100, 30000);
+      due(before, "184 366 548 731, 25 25 25 25, 175/13, 997");
+      x.schedule(0, 731, 24, false, false, 0);
+      x.feast(7, 3);
+      due(line(x, 0) + ", " + line(x, 1) + ", " + x.accrued(0, 100) + ", " + x.price(0, 100, 30000), before);
+      due(x.bond(1000, 500) + " " + x.flow(1, 1, 0) + " " + x.flow(1, 1, 1), "1 731 100");
+    });
+    test(38, "ROUNDED by the MODE (1 at first)", x -> {
+      // The MODE is that of the house when one asks: coupon sums of a half, and 3 by 1.2 is 2.5.
+      String[] dues = {"0 1 2", "1 2 3", "0 2 2", "1 2 3"};
+      for (int told = 0; told <= 3; told++) {
+        Daycounthouse y = new Daycounthouse();
+        y.round(told);
+        y.schedule(0, 366, 12, false, false, 0);
+        y.bond(1, 5000);
+        y.bond(3, 5000);
+        y.bond(3, 0);
+        for (int mode = 0; mode <= 3; mode++) {
+          y.round(mode);
+          due(y.flow(0, 1, 1) + " " + y.flow(1, 1, 1) + " " + y.price(2, 0, 200000), dues[mode]);
+        }
+      }
+    });
+  }
+
   public static void main(String[] args) {
     bonds();
     sinks();
@@ -695,6 +731,7 @@ public final class EdgesOfBondsTest extends Edges {
     yields();
     worstYields();
     durations();
+    moments();
     finish(32, 43, 4);
   }
 

@@ -447,6 +447,13 @@ public final class EdgesOfCountsTest extends Edges {
       // July 1, 2000, is a Saturday: it and July 2 and 3 are one.
       due(row(x, 152, 184, 1, false, false, 1), "1: 152 184");
       due(row(x, 181, 213, 1, true, false, 2), "1: 181 213");
+      // A FEAST that is told later leaves the ROW as it was made.
+      Daycounthouse y = twoMonths();
+      y.schedule(9, 69, 1, false, false, 1);
+      due(y.row(), "9 40 69");
+      y.feast(2, 10);
+      due(y.isBank(40) + " " + y.row() + " " + y.period(40), "false 9 40 69 2");
+      due(y.schedule(9, 69, 1, false, false, 1) + " " + y.row(), "2 9 41 69");
     });
     test(20, "PERIOD k is from the one number k - 1 (with it) to the one number k (without it).", x -> {
       Daycounthouse y = twoMonths();

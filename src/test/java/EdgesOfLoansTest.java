@@ -764,6 +764,94 @@ public final class EdgesOfLoansTest extends Edges {
     });
   }
 
+  /** A PLAN and what it comes to. */
+  private static String plan(Daycounthouse x, int loan) {
+    StringBuilder text = new StringBuilder();
+    for (int what = 0; what <= 5; what++) {
+      text.append(line(x, loan, what)).append(", ").append(x.all(loan, what)).append("; ");
+    }
+    return text.append(x.rateOf(loan)).toString();
+  }
+
+  private static void moments() {
+    test(21, "and the ROW of the moment at which it is told, with n PERIODS.", x -> {
+      // Neither the DAYS nor the MONTHS of a later ROW, nor a FEAST on one of the DAYS, touch what was told by then.
+      x.schedule(0, 366, 1, false, false, 1);
+      x.loan(120000, 1200, 0, 4);
+      String before = plan(x, 0);
+      due(line(x, 0, 0), "31 60 93 121 152 184 213 244 275 305 335 366");
+      x.schedule(0, 366, 24, false, false, 0);
+      due(plan(x, 0), before);
+      x.feast(5, 1);
+      due(plan(x, 0), before);
+      x.loan(120000, 1200, 0, 4);
+      // 24 MONTHS by 12 per 100 are 24 per 100.
+      due(line(x, 1, 0) + " " + (x.planned(1, 1, 2) + x.planned(1, 1, 1)), "366 " + (120000 + x.planned(1, 1, 1)));
+      x.schedule(0, 731, 12, false, false, 0);
+      x.loan(2100, 1000, 0, 7);
+      due(x.planned(2, 1, 1) + x.planned(2, 1, 2), 1210);
+      x.schedule(0, 731, 1, false, false, 0);
+      due(x.planned(2, 1, 1) + x.planned(2, 1, 2), 1210);
+      due(plan(x, 0), before);
+    });
+    test(21, "ROUNDED by the MODE (1 at first)", x -> {
+      // The MODE is that of the house when one asks, whatever it was when the LOAN was told.
+      String[] interests = {"0", "1", "0", "1"};
+      String[] parts = {"2 2 2 4", "3 3 3 1", "2 2 2 4", "3 3 3 1"};
+      for (int told = 0; told <= 3; told++) {
+        Daycounthouse y = new Daycounthouse();
+        y.round(told);
+        y.schedule(0, 31, 1, false, false, 0);
+        y.loan(10, 6000, 2, 4);
+        y.schedule(0, 121, 1, false, false, 0);
+        y.loan(10, 0, 1, 4);
+        for (int mode = 0; mode <= 3; mode++) {
+          y.round(mode);
+          due(line(y, 0, 1) + ", " + y.all(0, 0), interests[mode] + ", " + interests[mode]);
+          due(line(y, 1, 2), parts[mode]);
+          due(y.owes(0, 31, 1) + ", " + y.owes(1, 31, 2), interests[mode] + ", " + parts[mode].substring(0, 1));
+        }
+      }
+    });
+    test(25, "A BANK DAY is a DAY that is no Saturday, no Sunday and no FEAST.", x -> {
+      // SHARES of BANK DAYS hang on the FEASTS of the house when one asks: January has 21, and 20 with a FEAST.
+      x.schedule(0, 31, 1, false, false, 0);
+      x.loan(252000, 10, 2, 6);
+      due(x.planned(0, 1, 1) + " " + x.owes(0, 31, 1) + " " + x.rateOf(0), "21 21 83");
+      x.feast(1, 3);
+      due(x.planned(0, 1, 1) + " " + x.owes(0, 31, 1) + " " + x.rateOf(0), "20 20 79");
+      x.unfeast();
+      due(x.planned(0, 1, 1) + " " + x.owes(0, 31, 1), "21 21");
+    });
+    test(28, "The house has a FEE (0 at first) and days of GRACE (0 at first)", x -> {
+      // One FEE for all LOANS, and for all days: also for those of which one asked by another FEE ahead.
+      Daycounthouse y = threeLoans();
+      for (int fee : new int[] {25, 0, 9999}) {
+        y.late(fee, 5);
+        for (int loan = 0; loan < 3; loan++) {
+          due(y.owes(loan, 36, 5) + " " + y.owes(loan, 37, 5) + " " + y.owes(loan, 66, 0), "0 " + fee + " " + 2 * fee);
+        }
+      }
+      y.late(25, 6);
+      due(y.owes(0, 37, 5) + " " + y.owes(1, 37, 5) + " " + y.owes(2, 38, 5), "0 0 25");
+    });
+    test(29, "in the ORDER of the house", x -> {
+      // One ORDER for all LOANS, and for all days, also those of which one asked by another ORDER ahead.
+      x.schedule(0, 366, 1, false, false, 0);
+      for (int loan = 0; loan < 3; loan++) {
+        x.loan(1200, 1200, 1, 4);
+        x.pay(loan, 31, 50);
+      }
+      for (int order : new int[] {0, 4, 2, 5}) {
+        x.order(order);
+        String want = order < 4 ? "0 62" : "12 50";
+        for (int loan = 0; loan < 3; loan++) {
+          due(x.owes(loan, 31, 1) + " " + x.owes(loan, 31, 2), want);
+        }
+      }
+    });
+  }
+
   public static void main(String[] args) {
     loans();
     holidays();
@@ -777,6 +865,7 @@ public final class EdgesOfLoansTest extends Edges {
     lateAndOrder();
     payments();
     ledgers();
+    moments();
     finish(21, 31, 3);
   }
 

@@ -66,24 +66,42 @@ public final class LimitsTest {
     return x;
   }
 
+  private static final com.sun.management.ThreadMXBean BEAN =
+      (com.sun.management.ThreadMXBean) java.lang.management.ManagementFactory.getThreadMXBean();
+  /** What a run of 512 calls may make: so many fields and elements, each of a byte at least. */
+  private static final long ROOM = 7300000;
+
   private static void manyCalls() {
     Daycounthouse x = dearest();
-    var bean = (com.sun.management.ThreadMXBean) java.lang.management.ManagementFactory.getThreadMXBean();
     long digest = x.digest();
-    long start = bean.getCurrentThreadAllocatedBytes();
-    for (int i = 0; i < 250; i++) {
+    long start = BEAN.getCurrentThreadAllocatedBytes();
+    Daycounthouse y = new Daycounthouse();
+    for (int i = 1; i <= 250; i++) {
       if (x.digest() != digest) {
-        Check.due("512 calls: the same digest", false, true);
+        Check.due("many calls: the same digest", false, true);
       }
     }
-    long each = (bean.getCurrentThreadAllocatedBytes() - start) / 250;
-    // A room of 7.3 million elements leaves each of 512 calls some 14,000; a byte is an element here at most.
-    Check.due("a digest makes " + each + " bytes of objects", each < 8000, true);
-    start = bean.getCurrentThreadAllocatedBytes();
-    Daycounthouse y = new Daycounthouse();
-    long made = bean.getCurrentThreadAllocatedBytes() - start;
-    Check.due("an object makes " + made + " bytes of objects", made < 100000, true);
+    long made = BEAN.getCurrentThreadAllocatedBytes() - start;
+    Check.due("an object and 250 digests make " + made + " bytes of objects", made < ROOM / 512 * 250, true);
     Check.due("a second one", y.knock(), 1);
+  }
+
+  /** Calls with another answer than a text; digest() alone makes texts on its way. */
+  private static long plainCalls(Daycounthouse x) {
+    long sum = x.day(2026, 1, 31) + x.weekDay(5) + x.roll(5, 3) + x.later(5, 5, true) + x.banks(0, 36524);
+    for (int count = 0; count <= 7; count++) {
+      sum += x.simple(999999, 9999, 0, 36524, count) + x.stepped(999999, 0, 36524, count);
+    }
+    for (int i = 0; i < 3; i++) {
+      sum += x.planned(i, 24, 2) + x.all(i, 0) + x.rateOf(i) + x.owes(i, 36524, 0) + x.flow(i, 24, 3);
+      sum += x.price(i, 10000, 5) + x.duration(i, 10000, 5) + x.yieldOf(i, 10000, 5) + x.worst(i, 10000, 5);
+      sum += x.early(i, 1, 5) + x.change(i, 1, 5) + x.holiday(i, 1) + x.pay(i, 10000, 1) + x.sink(i, 1, 1);
+      sum += x.call(i, 1, 100) + x.reset(i, 1, 5) + x.link(i, 1, 100) + x.ex(i, 5);
+    }
+    sum += x.schedule(10000, 10700, 1, true, true, 3) + x.unfeast() + x.moving(7) + x.unfeast() + x.feast(5, 5);
+    sum += x.round(2) + x.step(5, 5) + x.late(5, 5) + x.order(5) + x.unquote() + x.quote(5, 100) + x.period(10001);
+    sum += x.split(5, 7, 9, true) + x.wipe() + x.type(11) + x.fault() + x.undo() + x.house(5) + x.knock();
+    return sum + (x.isSound() ? 1 : 0) + (x.isBank(5) ? 1 : 0);
   }
 
   /** The greatest numbers that the document lets in, where a long or a Wide could be too short. */
@@ -134,6 +152,16 @@ public final class LimitsTest {
     Check.due("accrued on " + day, x.accrued(0, day), slow.accrued(0, day));
   }
 
+  private static void plainCallsMakeNothing() {
+    Daycounthouse x = dearest();
+    plainCalls(x);
+    BEAN.getCurrentThreadAllocatedBytes();
+    long start = BEAN.getCurrentThreadAllocatedBytes();
+    plainCalls(x);
+    long made = BEAN.getCurrentThreadAllocatedBytes() - start;
+    Check.due("calls without texts make " + made + " bytes of objects", made < 100, true);
+  }
+
   private static void allCallsChange() {
     Daycounthouse x = new Daycounthouse();
     for (int i = 1; i <= 511; i++) {
@@ -152,6 +180,7 @@ public final class LimitsTest {
   public static void main(String[] args) {
     limits();
     manyCalls();
+    plainCallsMakeNothing();
     greatestNumbers();
     allCallsChange();
     Check.finish("LimitsTest");

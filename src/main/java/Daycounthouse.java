@@ -172,16 +172,8 @@ public final class Daycounthouse {
   }
 
   public String row() {
-    if (now.row.count == 0) {
-      return "-";
-    }
     StringBuilder text = new StringBuilder();
-    for (int i = 0; i < now.row.count; i++) {
-      if (i > 0) {
-        text.append(' ');
-      }
-      text.append(now.row.days[i]);
-    }
+    appendRow(text);
     return text.toString();
   }
 
@@ -514,7 +506,9 @@ public final class Daycounthouse {
     for (int what = 0; what <= 11; what++) {
       d = d * 31 + house(what);
     }
-    d = mixedText(d, row());
+    StringBuilder text = new StringBuilder();
+    appendRow(text);
+    d = mixedText(d, text);
     d = d * 31 + now.calendar.openDays(0, 3000);
     for (int i = 0; i < now.loanCount; i++) {
       d = mixedLoan(d, now.loans[i]);
@@ -523,7 +517,9 @@ public final class Daycounthouse {
       d = mixedBond(d, now.bonds[i]);
     }
     for (int k = 0; k <= now.curve.count; k++) {
-      d = mixedText(d, factor(k));
+      text.setLength(0);
+      appendFraction(text, now.curve.tops[k], now.curve.bottoms[k]);
+      d = mixedText(d, text);
     }
     d = d * 31 + fault();
     return d * 31 + (isSound() ? 1 : 0);
@@ -643,7 +639,19 @@ public final class Daycounthouse {
     return stream.greatest(price, isCalled);
   }
 
-  private static long mixedText(long start, String text) {
+  private void appendRow(StringBuilder text) {
+    if (now.row.count == 0) {
+      text.append('-');
+    }
+    for (int i = 0; i < now.row.count; i++) {
+      if (i > 0) {
+        text.append(' ');
+      }
+      text.append(now.row.days[i]);
+    }
+  }
+
+  private static long mixedText(long start, StringBuilder text) {
     long d = start;
     for (int i = 0; i < text.length(); i++) {
       d = d * 31 + text.charAt(i);
@@ -708,6 +716,12 @@ public final class Daycounthouse {
   }
 
   private static String fraction(long top, long bottom) {
+    StringBuilder text = new StringBuilder();
+    appendFraction(text, top, bottom);
+    return text.toString();
+  }
+
+  private static void appendFraction(StringBuilder text, long top, long bottom) {
     long a = top < 0 ? -top : top;
     long b = bottom;
     // Fibonacci's worst pair of longs takes 90 turns.
@@ -717,11 +731,9 @@ public final class Daycounthouse {
       b = rest;
     }
     long divisor = a > 0 ? a : 1;
-    StringBuilder text = new StringBuilder();
     appendLong(text, top / divisor);
     text.append('/');
     appendLong(text, bottom / divisor);
-    return text.toString();
   }
 
   private static void appendLong(StringBuilder text, long value) {

@@ -214,6 +214,17 @@ public final class EdgesOfHouseTest extends Edges {
     });
   }
 
+  private static Supplier<Daycounthouse> withCall(int mode, int percent) {
+    return () -> {
+      Daycounthouse y = some();
+      y.round(mode);
+      y.call(0, 1, percent);
+      y.sink(0, 2, 999);
+      y.link(0, 3, 250);
+      return y;
+    };
+  }
+
   private static void soundness() {
     test(58, "Returns whether all of this is so", x -> {
       due(x.isSound(), true);
@@ -248,6 +259,17 @@ public final class EdgesOfHouseTest extends Edges {
       x.reset(2, 24, 9999);
       x.ex(2, 60);
       due(x.isSound(), true);
+    });
+    test(58, "by YIELD of p (if there is one) PRICE (not ROUNDED) is p or more", x -> {
+      // Of the YIELD, not of WORST: by a CALL of 98 percent that one is below, by 50 NONE.
+      for (int mode = 0; mode <= 3; mode++) {
+        for (int percent : new int[] {50, 98, 100, 200}) {
+          Daycounthouse y = withCall(mode, percent).get();
+          due(y.worst(0, 0, y.price(0, 0, 30000)) < y.yieldOf(0, 0, y.price(0, 0, 30000)), percent < 100);
+          due(y.isSound(), true);
+          due(y.digest() + " " + y.isSound(), whole(withCall(mode, percent), 4, 1000).longValue() + " true");
+        }
+      }
     });
   }
 

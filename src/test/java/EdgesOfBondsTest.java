@@ -198,6 +198,19 @@ public final class EdgesOfBondsTest extends Edges {
         y.round(mode);
         due(y.worst(0, 0, 2 + dues[mode]) + " " + y.worst(0, 0, 3 + dues[mode]), "0 -1");
       }
+      // A coin and a half is SUNK, and as much comes by the CALL: each is ROUNDED alone, to 1 or 2 coins.
+      int[] both = {2, 4, 4, 4};
+      for (int mode = 0; mode <= 3; mode++) {
+        Daycounthouse y = new Daycounthouse();
+        y.schedule(0, 731, 12, false, false, 0);
+        y.bond(2, 0);
+        y.link(0, 1, 150);
+        y.sink(0, 1, 1);
+        y.call(0, 1, 100);
+        y.reset(0, 2, 9999);
+        y.round(mode);
+        due(y.worst(0, 0, both[mode]) + " " + y.worst(0, 0, both[mode] + 1), "0 -1");
+      }
     });
     test(34, "Tells a CALL, or takes it away (CHANGE).", x -> {
       change(EdgesOfBondsTest::par, NONE, h -> h.call(0, 1, 50));
@@ -348,6 +361,13 @@ public final class EdgesOfBondsTest extends Edges {
       due(y.flow(0, 23, 2) + " " + y.flow(0, 24, 2), "0 9989990");
       y.round(3);
       due(y.flow(0, 24, 2), 9989991);
+      // REST is less by what is SUNK itself: 400 coins, for which 600 are paid, or 200.
+      Daycounthouse v = par();
+      v.sink(0, 1, 400);
+      v.link(0, 1, 150);
+      due(line(v, 2) + ", " + line(v, 4), "600 0 0 900, 600 600 600 0");
+      v.link(0, 1, 50);
+      due(line(v, 2) + ", " + line(v, 4) + ", " + line(v, 1), "200 0 0 300, 600 600 600 0, 13 8 8 8");
       Daycounthouse z = single(1, 1, 0);
       z.link(0, 1, 49);
       due(z.flow(0, 1, 2), 0);

@@ -434,6 +434,10 @@ public final class EdgesOfCountsTest extends Edges {
       due(row(x, 0, 31, 1, true, false, 0), "1: 0 31");
       due(row(x, 0, 32, 1, true, false, 0), "2: 0 1 32");
       due(row(x, 30, 90, 1, true, false, 0), "2: 30 59 90");
+      // Each from the last day back, not from the one ahead: from March 31 to February 29, January 31.
+      due(row(x, 0, 90, 1, true, false, 0), "3: 0 30 59 90");
+      due(row(x, 0, 90, 2, true, false, 0) + ", " + row(x, 0, 60, 2, true, false, 0), "2: 0 30 90, 1: 0 60");
+      due(row(x, 0, 90, 1, false, false, 0), "3: 0 31 60 90");
       due(row(x, 29, 120, 1, true, true, 0), "4: 29 30 59 90 120");
       due(row(x, 29, 120, 1, true, false, 0), "3: 29 59 89 120");
       // A month ahead of January 20, 2000, is no DAY.

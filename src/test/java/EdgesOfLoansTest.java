@@ -319,6 +319,18 @@ public final class EdgesOfLoansTest extends Edges {
         }
       }
       due(line(months(4, 10, 0, 0), 0, 2), "3 3 3 1");
+      // Of 24 PERIODS 11 coins bring less than a half to each; 12 a half, and by the least rate a bit more than that.
+      String[] dues = {"0 0 0", "0 1 1", "0 0 1", "1 1 1"};
+      for (int mode = 0; mode <= 3; mode++) {
+        Daycounthouse y = months(24, 11, 0, 0);
+        y.loan(12, 0, 0, 4);
+        y.loan(12, 1, 0, 4);
+        y.round(mode);
+        int third = y.planned(2, 1, 1) + y.planned(2, 1, 2);
+        due(y.planned(0, 1, 2) + " " + y.planned(1, 1, 2) + " " + third, dues[mode]);
+      }
+      due(line(months(3, 1, 9999, 0), 0, 2) + ", " + line(months(2, 1, 9999, 0), 0, 2), "0 0 1, 1 0");
+      due(months(24, 1, 1, 0).planned(0, 23, 4) + " " + months(24, 12, 1, 0).planned(0, 12, 4), "1 0");
       due(line(months(24, 999999, 0, 0), 0, 2).startsWith("41667 41667 "), true);
       due(months(1, 999999, 9999, 0).planned(0, 1, 2), 999999);
     });

@@ -342,8 +342,10 @@ public final class EdgesOfLoansTest extends Edges {
       due(line(y, 0, 2), "84 84 84 84 84 84 84 84 84 84 84 82");
       y.change(0, 11, 1200);
       due(y.planned(0, 11, 2), 84);
-      y.change(0, 11, 1201);
-      due(y.planned(0, 11, 2), 83);
+      for (int rate : new int[] {1201, 1199, 0, 9999}) {
+        y.change(0, 11, rate);
+        due(y.planned(0, 11, 2), 83);
+      }
       y.change(0, 11, NONE);
       y.early(0, 10, 1);
       due(y.planned(0, 11, 2), 83);
@@ -364,6 +366,23 @@ public final class EdgesOfLoansTest extends Edges {
       y.early(0, 3, 6);
       y.change(0, 4, 7);
       due(y.planned(0, 10, 2) + " " + y.planned(0, 11, 2) + " " + y.planned(0, 12, 2), "0 500 500");
+    });
+    test(25, "with REST R, and N PERIODS from that one on", x -> {
+      // Payments made behind the HOLIDAY, by a lower rate, right behind an EARLY sum, and by a higher rate.
+      Daycounthouse y = months(12, 100000, 1200, 0);
+      y.holiday(0, 2);
+      y.change(0, 5, 600);
+      y.early(0, 7, 5000);
+      y.change(0, 10, 1300);
+      due(y.planned(0, 1, 1) + " " + y.planned(0, 2, 1) + " " + y.planned(0, 2, 4), "1000 1000 100000");
+      int like = 0;
+      for (int k = 3; k <= 11; k++) {
+        if (k == 3 || k == 5 || k == 8 || k == 10) {
+          like = payment(y.planned(0, k - 1, 4), y.planned(0, k, 5), 13 - k);
+        }
+        due(k + ": " + (y.planned(0, k, 1) + y.planned(0, k, 2)), k + ": " + like);
+      }
+      due(y.planned(0, 7, 3) + " " + y.planned(0, 12, 2), "5000 " + y.planned(0, 11, 4));
     });
     test(25, "or R / N, if r is 0; ROUNDED.", x -> {
       // Two years at 10 per 100: 1210 of 2100 are whole, 302.5 of 525 and 907.5 of 1575 are halves.
@@ -605,6 +624,10 @@ public final class EdgesOfLoansTest extends Edges {
       change(Daycounthouse::new, 0, h -> h.late(0, 0));
       x.late(7, 60);
       due(x.house(7) + " " + x.house(8), "7 60");
+      x.late(0, 59);
+      due(x.house(7) + " " + x.house(8), "0 59");
+      x.late(9, 0);
+      due(x.house(7) + " " + x.house(8), "9 0");
     });
     test(28, "Returns FEE before.", x -> {
       due(x.late(9999, 3) + " " + x.late(0, 4) + " " + x.late(0, 5), "0 9999 0");

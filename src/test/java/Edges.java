@@ -1,5 +1,6 @@
 import java.io.IOException;
 import java.io.UncheckedIOException;
+import java.math.BigInteger;
 import java.nio.file.Files;
 import java.nio.file.Path;
 import java.util.ArrayList;
@@ -158,6 +159,27 @@ abstract class Edges {
 
   static void index(Daycounthouse x, Function<Daycounthouse, Object> call) {
     still(x, INDEX, call);
+  }
+
+  // ---- exact numbers
+
+  /** The upper and the lower number of a FRACTION. */
+  static BigInteger[] parts(String fraction) {
+    String[] both = fraction.split("/");
+    return new BigInteger[] {new BigInteger(both[0]), new BigInteger(both[1])};
+  }
+
+  /** A fraction that is 0 or more, ROUNDED. */
+  static int rounded(BigInteger top, BigInteger bottom, int mode) {
+    BigInteger[] whole = top.divideAndRemainder(bottom);
+    int half = whole[1].shiftLeft(1).compareTo(bottom);
+    boolean isUp = switch (mode) {
+      case 0 -> false;
+      case 1 -> half >= 0;
+      case 2 -> half > 0 || half == 0 && whole[0].testBit(0);
+      default -> whole[1].signum() > 0;
+    };
+    return whole[0].intValueExact() + (isUp ? 1 : 0);
   }
 
   // ---- limits

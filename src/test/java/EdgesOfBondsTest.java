@@ -361,6 +361,16 @@ public final class EdgesOfBondsTest extends Edges {
       due(y.flow(0, 23, 2) + " " + y.flow(0, 24, 2), "0 9989990");
       y.round(3);
       due(y.flow(0, 24, 2), 9989991);
+      // Halves of an even and of an odd number.
+      String[] halves = {"0 1", "1 2", "0 2", "1 2"};
+      for (int mode = 0; mode <= 3; mode++) {
+        Daycounthouse u = par();
+        u.link(0, 1, 50);
+        u.sink(0, 1, 1);
+        u.sink(0, 2, 3);
+        u.round(mode);
+        due(u.flow(0, 1, 2) + " " + u.flow(0, 2, 2), halves[mode]);
+      }
       // REST is less by what is SUNK itself: 400 coins, for which 600 are paid, or 200.
       Daycounthouse v = par();
       v.sink(0, 1, 400);
@@ -439,6 +449,19 @@ public final class EdgesOfBondsTest extends Edges {
       due(y.accrued(0, 0) + " " + y.accrued(0, 1) + " " + y.accrued(0, 181), "0/1 25/182 4525/182");
       due(y.accrued(0, 182) + " " + y.accrued(0, 183), "0/1 25/184");
       due(single(1, 10, 5000).accrued(0, 0), "0/1");
+    });
+    test(39, "ACCRUED: (1 - w) * coupon sum of k", x -> {
+      // Of each PERIOD its own coupon sum: 25, 30, 45 and 90, of which a day brings a part of its own days.
+      Daycounthouse y = par();
+      y.reset(0, 2, 600);
+      y.link(0, 3, 150);
+      y.reset(0, 4, 1200);
+      due(line(y, 1), "25 30 45 90");
+      due(y.accrued(0, 1) + " " + y.accrued(0, 183) + " " + y.accrued(0, 367) + " " + y.accrued(0, 548),
+          "25/182 15/92 45/181 45/92");
+      y.ex(0, 1);
+      due(y.accrued(0, 181) + " " + y.accrued(0, 365) + " " + y.accrued(0, 546) + " " + y.accrued(0, 730),
+          "-25/182 -15/92 -45/181 -45/92");
     });
     test(39, "ACCRUED: (1 - w) * coupon sum of k; if EX, - w * that.", x -> {
       Daycounthouse y = greatest();
@@ -658,6 +681,17 @@ public final class EdgesOfBondsTest extends Edges {
   }
 
   private static void durations() {
+    test(43, "(that of k without the coupon sum, if EX)", x -> {
+      // 25, 25, 25 and 1025, on the days 171 and 172; on the second one the first 25 are gone.
+      Daycounthouse y = par();
+      y.ex(0, 10);
+      due(y.duration(0, 171, 0) + " " + y.duration(0, 172, 0) + " " + y.duration(0, 721, 0), "2924 2985 54");
+      due(y.yieldOf(0, 171, 1100) + " " + y.yieldOf(0, 171, 1101), "0 -1");
+      due(y.yieldOf(0, 172, 1075) + " " + y.yieldOf(0, 172, 1076), "0 -1");
+      due(y.yieldOf(0, 721, 1000) + " " + y.yieldOf(0, 721, 1001) + " " + y.yieldOf(0, 720, 1025), "0 -1 0");
+      y.sink(0, 1, 1000);
+      due(y.duration(0, 171, 0) + " " + y.duration(0, 172, 0) + " " + y.duration(0, 182, 0), "60 54 -1");
+    });
     test(43, "Returns the floor of 1000 times: the sum of (w + j - k) * what the PERIOD j brings to PRICE (not "
         + "ROUNDED), by that PRICE; NONE, if it is 0.", x -> {
       Daycounthouse y = single(3, 5, 0);

@@ -195,6 +195,78 @@ public final class EdgesOfCountsTest extends Edges {
     });
   }
 
+  /** Spans with ends of months, leap years and FEASTS in them. */
+  private static final int[][] SPANS = {{0, 1}, {0, 366}, {28, 59}, {30, 59}, {30, 60}, {30, 90}, {59, 90}, {89, 90},
+      {365, 800}, {58, 1520}, {0, LAST_DAY}};
+
+  private static Daycounthouse withFeasts(int mode) {
+    Daycounthouse x = inMode(mode);
+    x.feast(2, 29);
+    x.moving(1);
+    return x;
+  }
+
+  private static void sumsOfAllCounts() {
+    test(14, "Returns amount * rate / 10000 * SHARE", x -> {
+      for (int i = 0; i < 32; i++) {
+        int mode = i / 8;
+        int count = i % 8;
+        Daycounthouse y = withFeasts(mode);
+        for (int[] span : SPANS) {
+          BigInteger[] share = parts(y.share(span[0], span[1], count));
+          for (int[] sum : new int[][] {{999999, 9999}, {12345, 475}, {1, 1}, {7300, 5000}}) {
+            BigInteger top = BigInteger.valueOf((long) sum[0] * sum[1]).multiply(share[0]);
+            int want = rounded(top, share[1].multiply(BigInteger.valueOf(10000)), mode);
+            due(y.simple(sum[0], sum[1], span[0], span[1], count), want);
+          }
+        }
+      }
+    });
+    test(17, "Returns the sum of amount * rate / 10000 * SHARE over all spans from a to b that STEPS cut", x -> {
+      for (int i = 0; i < 32; i++) {
+        int mode = i / 8;
+        int count = i % 8;
+        Daycounthouse y = withFeasts(mode);
+        int[][] steps = {{29, 475}, {59, 9999}, {60, 0}, {90, 300}, {700, 1200}, {LAST_DAY, 5}};
+        for (int[] step : steps) {
+          y.step(step[0], step[1]);
+        }
+        for (int[] span : SPANS) {
+          due(y.stepped(999999, span[0], span[1], count), steppedBy(y, steps, span, count, mode));
+        }
+      }
+    });
+    test(17, "exactly, and then ROUNDED.", x -> {
+      // Halves of an even and of an odd number.
+      String[] halves = {"0 1 1", "1 2 1", "0 2 1", "1 2 2"};
+      for (int mode = 0; mode <= 3; mode++) {
+        Daycounthouse y = inMode(mode);
+        y.step(0, 5000);
+        due(y.stepped(1, 0, 365, 1) + " " + y.stepped(3, 0, 365, 1) + " " + y.stepped(3, 0, 364, 1), halves[mode]);
+      }
+    });
+  }
+
+  /** Of 999999 coins, span by span by share(), by the library's great numbers. */
+  private static int steppedBy(Daycounthouse x, int[][] steps, int[] span, int count, int mode) {
+    BigInteger top = BigInteger.ZERO;
+    BigInteger bottom = BigInteger.ONE;
+    int from = span[0];
+    int rate = 0;
+    for (int i = 0; i <= steps.length; i++) {
+      int to = i < steps.length ? Math.min(steps[i][0], span[1]) : span[1];
+      if (to > from) {
+        BigInteger[] share = parts(x.share(from, to, count));
+        BigInteger sum = share[0].multiply(BigInteger.valueOf(999999L * rate));
+        top = top.multiply(share[1]).add(sum.multiply(bottom));
+        bottom = bottom.multiply(share[1]);
+        from = to;
+      }
+      rate = i < steps.length ? steps[i][1] : rate;
+    }
+    return rounded(top, bottom.multiply(BigInteger.valueOf(10000)), mode);
+  }
+
   /** By the library's great numbers: rounded by halves up each time, or just at last. */
   private static String grown(int amount, int rate, int times, int perYear, boolean isEach) {
     BigInteger top = BigInteger.valueOf(amount);
@@ -566,6 +638,7 @@ public final class EdgesOfCountsTest extends Edges {
     sharesOfDays();
     sharesOfMonths();
     sums();
+    sumsOfAllCounts();
     grownSums();
     steps();
     steppedSums();

@@ -265,6 +265,29 @@ public final class EdgesOfLoansTest extends Edges {
       z.change(0, 1, 5999);
       due(z.planned(0, 1, 1), 0);
     });
+    test(25, "INTEREST: REST * rate / 10000 * SHARE of the PERIOD", x -> {
+      // By each count as simple() of REST; the last PERIODS are January 29 to 31 and January 15 to February 14.
+      for (int i = 0; i < 16; i++) {
+        int count = i / 2;
+        Daycounthouse y = new Daycounthouse();
+        y.feast(5, 1);
+        int day = i % 2 == 0 ? 28 : 14;
+        y.schedule(day, i % 2 == 0 ? 396 : 410, 1, false, false, 0);
+        y.loan(999999, 475, 1, count);
+        y.early(0, 3, 12345);
+        y.change(0, 8, 9999);
+        int rest = 999999;
+        int last = y.all(0, 5);
+        for (int k = 1; k <= last; k++) {
+          int end = y.planned(0, k, 0);
+          due(count + " " + k + ": " + y.planned(0, k, 1),
+              count + " " + k + ": " + y.simple(rest, k < 8 ? 475 : 9999, day, end, count));
+          rest = y.planned(0, k, 4);
+          day = end;
+        }
+        due(last + " " + rest, "13 0");
+      }
+    });
     test(25, "Returns that of its PLAN.", x -> {
       Daycounthouse y = likeParts();
       due(line(y, 0, 0), "31 60 91 121 152 182 213 244 274 305 335 366");
